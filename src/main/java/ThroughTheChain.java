@@ -94,11 +94,11 @@ public final class ThroughTheChain {
         }
         Shelf from = shelves[p];
         Shelf to = shelves[q];
-        boolean isEmpty = from.held == NONE || to.held == NONE;
-        if (from.isSomebody() || to.isSomebody() || !isEmpty && from.held != to.held) {
+        boolean isNothing = from.held == NONE || to.held == NONE;
+        if (from.isSomebody() || to.isSomebody() || !isNothing && from.held != to.held) {
             return refuse(OTHER);
         }
-        if (isEmpty) {
+        if (isNothing) {
             return refuse(NOTHING);
         }
         if (!from.hasStretch(i, n) || !to.hasStretch(j, n)) {
@@ -178,21 +178,26 @@ public final class ThroughTheChain {
         if (!mayBeAsked(what, v)) {
             return refuse(BAD);
         }
-        int was = status(what == 4 ? 2 : what + 3);
+        int was;
         switch (what) {
             case 0:
+                was = now.yards;
                 now.yards = v;
                 break;
             case 1:
+                was = now.spread;
                 now.spread = v;
                 break;
             case 2:
+                was = now.wrists;
                 now.wrists = v;
                 break;
             case 3:
+                was = now.bell;
                 now.bell = v;
                 break;
             default:
+                was = now.turn;
                 now.turn = v;
                 break;
         }

@@ -22,9 +22,11 @@ public final class RandomCallsTest {
         random = new Random(seed);
     }
 
-    /** Mostly 0 to most, now and then something that may not be. */
+    /** Mostly 0 to most, now and then something that may not be, just above it too. */
     private int upTo(int most) {
-        return random.nextInt(25) == 0 ? ODD[random.nextInt(ODD.length)] : random.nextInt(most + 1);
+        int chance = random.nextInt(40);
+        if (chance == 0) return most + 1;
+        return chance == 1 ? ODD[random.nextInt(ODD.length)] : random.nextInt(most + 1);
     }
 
     /** Likely one that can be called, so that runs come about. */
