@@ -29,6 +29,10 @@ public final class AheadTest {
         // 1 2 0 is as good, but not the first by rows of numbers.
         C.told(28, x, "stand(0, 0), from 1 2 0", () -> x.stand(0, 0), 0);
         C.told(29, x, "worth(0), from 1 2 0", () -> x.worth(0), 0);
+        ThroughTheChain two = of("one 0 0 5 0 0;one 0 0 5 0 0");
+        two.move(0, 1);
+        C.told(28, two, "stand(0, 0), from 1 0", () -> two.stand(0, 0), 0);
+        C.told(28, two, "stand(0, NONE) of two", () -> two.stand(0, -1), 8);
         C.told(28, x, "stand(1, NONE), one", () -> x.stand(1, -1), 0);
         C.told(28, x, "stand(1, 0), one", () -> x.stand(1, 0), 3);
         C.told(29, x, "worth(1), one", () -> x.worth(1), 0);
@@ -40,7 +44,6 @@ public final class AheadTest {
         C.refused(28, x, "stand(-1, NONE)", () -> x.stand(-1, -1), -2);
         C.refused(29, x, "worth(2)", () -> x.worth(2), -2);
         C.refused(29, x, "worth(-1)", () -> x.worth(-1), -2);
-        // SISTERS side by side, wherever the row begins: 4, the HAND of GRIP 0, is best beside one.
         ThroughTheChain five = Check.five();
         C.told(28, five, "stand(0, NONE) of FIVE", () -> five.stand(0, -1), 14);
         C.told(28, five, "stand(0, 0) of FIVE", () -> five.stand(0, 0), 0);

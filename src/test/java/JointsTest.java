@@ -38,6 +38,8 @@ public final class JointsTest {
         ThroughTheChain sisters = of("one 0 3 6 0 2;one 0 3 5 0 1;one 1 0 1 0 0;one 1 0 0 0 0");
         C.told(17, sisters, "two SISTERS, one JOINT", () -> sisters.strength(0, 0), 22);
         C.told(17, sisters, "0 at least", () -> sisters.strength(1, 0), 0);
+        sisters.tell(2, 0, 3);
+        C.told(17, sisters, "3, 2 less", () -> sisters.strength(1, 0), 1);
     }
 
     private static void weakestAndStrongest() {
@@ -50,6 +52,11 @@ public final class JointsTest {
         C.told(19, x, "strongest(0), 31 and 32", () -> x.strongest(0), 3);
         x.tell(0, 0, 19);
         C.told(19, x, "strongest(0), of two alike", () -> x.strongest(0), 0);
+        ThroughTheChain five = Check.five();
+        C.told(18, five, "weakest(0) of FIVE", () -> five.weakest(0), 0);
+        C.told(18, five, "weakest(1), one JOINT", () -> five.weakest(1), 0);
+        C.told(19, five, "strongest(0) of FIVE", () -> five.strongest(0), 1);
+        C.told(19, five, "strongest(1), one JOINT", () -> five.strongest(1), 0);
         C.refused(18, x, "weakest(1)", () -> x.weakest(1), -5);
         C.refused(18, x, "weakest(2)", () -> x.weakest(2), -2);
         C.refused(18, x, "weakest(-1)", () -> x.weakest(-1), -2);

@@ -28,6 +28,9 @@ public final class ShelvesTest {
         C.due(2, "element(7, 39)", x.element(7, 39), 1);
         C.due(2, "row(7, 3, 40)", x.row(7, 3, 40), 1);
         C.due(2, "element(7, 39), new", x.element(7, 39), 0);
+        Check.fill(x, 6, 2, 8, 9);
+        C.due(2, "row(6, 2, 2)", x.row(6, 2, 2), 1);
+        C.due(2, "element(6, 0), new", x.element(6, 0), 0);
         C.due(2, "show(7, 2)", x.show(7, 2), 1);
         C.due(2, "row(7, 2, 1)", x.row(7, 2, 1), 1);
         C.due(2, "holds(7)", x.holds(7), 2);
@@ -114,6 +117,9 @@ public final class ShelvesTest {
         C.told(5, x, "element(0, 1)", () -> x.element(0, 1), Long.MIN_VALUE);
         C.told(5, x, "element(0, 2)", () -> x.element(0, 2), 0);
         C.told(5, x, "element(0, -1)", () -> x.element(0, -1), 0);
+        x.row(3, 0, 40);
+        C.told(5, x, "element(3, 40)", () -> x.element(3, 40), 0);
+        x.show(3, -1);
         C.told(5, x, "element(1, 0)", () -> x.element(1, 0), 0);
         C.told(5, x, "element(2, 0)", () -> x.element(2, 0), 0);
         C.told(5, x, "element(8, 0)", () -> x.element(8, 0), 0);

@@ -163,9 +163,11 @@ public final class TruthTest {
         C.refused(45, y, "best(2)", () -> y.best(2), -2);
         C.refused(45, y, "best(-1)", () -> y.best(-1), -2);
         C.told(45, none, "best of nobody", () -> none.best(0), 0);
-        for (int i = 0; i < 8; i++) {
-            none.one(0, 0, i, i, 0);
+        for (int i = 0; i < 7; i++) {
+            none.one(0, 0, 5, 5, 0);
         }
+        C.told(45, none, "best of seven", () -> none.best(0), 8);
+        none.one(0, 0, 5, 5, 0);
         C.refused(45, none, "best of eight", () -> none.best(0), -6);
     }
 
@@ -225,6 +227,10 @@ public final class TruthTest {
         C.due(47, "CHAIN 0: 4 is called and HELD", Check.line(x, 0), 10412);
         C.due(47, "RUNS", x.status(1), 1);
         C.due(47, "one DRAW", x.status(9), 1103527590);
+        // 3 is lighter, but has more FORCE by a; CALL calls 4.
+        ThroughTheChain heavy = of("one 0 0 8 9 0;one 0 0 8 9 0;one 0 0 8 9 0;one 1 4 9 7 9;one 1 0 9 8 0;one 1 0 9 20 0");
+        C.due(47, "runs(1)", heavy.runs(1), 0);
+        C.due(47, "CHAIN 0: not the lightest", Check.line(heavy, 0), 10412);
         C.told(47, x, "runs(1), OVER", () -> x.runs(1), 0);
         // By turns one of two must tear the other two apart, and takes the right one, whose GRIP is greater.
         ThroughTheChain y = of("one 0 0 1 20 0;one 0 0 2 20 0;one 0 0 1 20 0;one 1 0 1 20 0;one 1 0 2 20 0;one 1 0 1 20 0");
@@ -336,9 +342,13 @@ public final class TruthTest {
         C.due(52, "status(0)", x.status(0), 5);
         x.one(0, 1, 2, 3, 4);
         C.due(51, "image() once more", x.image(), 1);
+        x.show(0, 5);
         x.one(0, 1, 2, 3, 4);
+        x.show(1, 6);
         x.back();
         C.due(51, "the later image", x.status(0), 6);
+        C.due(52, "the SHELF with 5, who was kept", x.holds(0), 15);
+        C.due(52, "the SHELF with 6, who was not", x.holds(1), -1);
     }
 
     private static void status() {

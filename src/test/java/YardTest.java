@@ -107,6 +107,13 @@ public final class YardTest {
         for (int what = 0; what < 8; what++) {
             C.due(14, "oneOf(5, " + what + ")", x.oneOf(5, what), last[what]);
         }
+        C.due(14, "the least", Check.read(x, "yards 0;spread 1;wrists 0;bell 1;tired 4 0;tired 0 0"), 6);
+        int[] least = {6, 0, 0, 0, 1, 0, 1, 0};
+        for (int what = 0; what < least.length; what++) {
+            C.due(14, "status(" + what + ")", x.status(what), least[what]);
+        }
+        C.due(14, "a yard with a FAULT", Check.read(x, "yards 31"), -26);
+        C.due(14, "a yard behind one with a FAULT", Check.read(x, "yards 30"), 1);
         C.due(14, "no blanks", Check.read(new ThroughTheChain(), "bell1;bell99"), 2);
     }
 
@@ -151,6 +158,9 @@ public final class YardTest {
         fault("yards  ", 7);
         fault("yard 3", 0);
         fault("yardss 3", 0);
+        fault("yardsz 3", 0);
+        fault("aards 3", 0);
+        fault("yardx 3", 0);
         fault(" Yards 3", 1);
         fault("7", 0);
         fault("yards x", 6);
@@ -186,6 +196,8 @@ public final class YardTest {
     private static void faultsOfRuns() {
         fault("run 0 0", 4);
         fault("run 5 0", 4);
+        fault("run 6 0", 4);
+        fault("run 7 0", 4);
         fault("run x", 4);
         fault("run", 3);
         fault("run 3", 5);
