@@ -910,10 +910,14 @@ public final class ThroughTheChain {
         void leave(int one) {
             int chain = home[one];
             int[] row = line[chain];
-            size[chain]--;
-            for (int p = placeOf(one); p < size[chain]; p++) {
-                row[p] = row[p + 1];
+            int staying = 0;
+            for (int p = 0; p < size[chain]; p++) {
+                if (row[p] != one) {
+                    row[staying] = row[p];
+                    staying++;
+                }
             }
+            size[chain] = staying;
         }
 
         int placeOf(int one) {
@@ -1417,7 +1421,8 @@ public final class ThroughTheChain {
                 fault = start;
                 return;
             }
-            int chain = numberBehindWord(0, 1);
+            toNextToken();
+            int chain = number(0, 1);
             int kind = number(0, KINDS - 1);
             int grip = number(0, MOST_LEVEL);
             int weight = number(0, MOST_LEVEL);
@@ -1428,7 +1433,8 @@ public final class ThroughTheChain {
         }
 
         private void readTired(Yard yard) {
-            int one = numberBehindWord(0, yard.people - 1);
+            toNextToken();
+            int one = number(0, yard.people - 1);
             int tired = number(0, MOST_LEVEL);
             if (fault == NONE) {
                 yard.tired[one] = tired;

@@ -220,6 +220,14 @@ public final class JointsTest {
         C.told(27, bell, "play(0, 0), BELL 7", () -> bell.play(0, 0), 0);
         bell.ask(3, 8);
         C.told(27, bell, "play(0, 0), BELL 8: NONE", () -> bell.play(0, 0), -1);
+        bell.ask(3, 99);
+        for (int i = 0; i < 6; i++) {
+            bell.tell(i, 1, 0);
+            bell.tell(i, 0, 20);
+        }
+        bell.ask(0, 0);
+        C.told(27, bell, "play(0, 1), BELL 99", () -> bell.play(0, 1), 99);
+        bell.ask(3, 8);
         bell.runs(3);
         C.told(27, bell, "play(0, 1), 3 RUNS behind", () -> bell.play(0, 1), 5);
         ThroughTheChain none = new ThroughTheChain();

@@ -169,6 +169,9 @@ public final class TruthTest {
         C.told(45, none, "best of seven", () -> none.best(0), 8);
         none.one(0, 0, 5, 5, 0);
         C.refused(45, none, "best of eight", () -> none.best(0), -6);
+        Check.fill(none, 0, 0, 7, 6, 5, 4, 3, 2, 1, 0);
+        C.due(44, "order of eight", none.order(0, 0), 8);
+        C.due(44, "CHAIN 0", Check.line(none, 0), 176543210);
     }
 
     private static void run() {
@@ -345,10 +348,17 @@ public final class TruthTest {
         x.show(0, 5);
         x.one(0, 1, 2, 3, 4);
         x.show(1, 6);
+        x.show(7, 6);
+        x.show(2, 6);
         x.back();
         C.due(51, "the later image", x.status(0), 6);
         C.due(52, "the SHELF with 5, who was kept", x.holds(0), 15);
         C.due(52, "the SHELF with 6, who was not", x.holds(1), -1);
+        C.due(52, "the last SHELF with 6", x.holds(7), -1);
+        x.one(0, 1, 2, 3, 4);
+        x.show(0, 6);
+        x.back();
+        C.due(52, "the first SHELF with 6", x.holds(0), -1);
     }
 
     private static void status() {
