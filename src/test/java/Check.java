@@ -1,5 +1,3 @@
-import java.util.ArrayList;
-import java.util.List;
 import java.util.function.LongSupplier;
 
 /** What the tests share: answers held against what is due, refusals, and yards that are used again and again. */
@@ -27,32 +25,26 @@ final class Check {
         }
     }
 
-    /** The call answers what is due, counts one refusal of that number, and leaves all else as it was. */
+    /** The call answers what is due and counts one refusal of that number; EdgesTest holds that nothing else changes. */
     void refused(int promise, ThroughTheChain x, String call, LongSupplier made, int want) {
-        List<Long> before = all(x);
         int number = want <= -1000 ? want + 1000 : want < -6 ? -2 : want;
         int[] counts = refusals(x);
         counts[-2 - number]++;
         due(promise, call, made.getAsLong(), want);
-        for (int i = 0; i < 5; i++) {
-            due(promise, "refusals " + REFUSALS[i] + " behind " + call, x.status(12 + i), counts[i]);
-        }
-        checked++;
-        if (!before.equals(all(x))) {
-            wrong++;
-            System.out.println(name + ", promise " + promise + ": " + call + " was refused and changed something");
-        }
+        counted(promise, x, call, counts);
     }
 
-    /** The call answers what is due, refuses nothing, and leaves all as it was. */
+    /** The call answers what is due and refuses nothing. */
     void told(int promise, ThroughTheChain x, String call, LongSupplier made, long want) {
-        List<Long> before = all(x);
-        int refusedBefore = java.util.Arrays.stream(refusals(x)).sum();
+        int[] counts = refusals(x);
         due(promise, call, made.getAsLong(), want);
-        checked++;
-        if (!before.equals(all(x)) || refusedBefore != java.util.Arrays.stream(refusals(x)).sum()) {
-            wrong++;
-            System.out.println(name + ", promise " + promise + ": " + call + " changed something");
+        counted(promise, x, call, counts);
+    }
+
+    private void counted(int promise, ThroughTheChain x, String call, int[] counts) {
+        int[] behind = refusals(x);
+        for (int i = 0; i < 5; i++) {
+            due(promise, "refusals " + REFUSALS[i] + " behind " + call, behind[i], counts[i]);
         }
     }
 
@@ -102,27 +94,5 @@ final class Check {
             counts[i] = x.status(12 + i);
         }
         return counts;
-    }
-
-    /** All that calls can see but the refusals. */
-    private static List<Long> all(ThroughTheChain x) {
-        List<Long> l = new ArrayList<>();
-        for (int what = 0; what <= 10; what++) {
-            l.add((long) x.status(what));
-        }
-        l.add((long) line(x, 0));
-        l.add((long) line(x, 1));
-        for (int one = 0; one < x.status(0); one++) {
-            for (int what = 0; what < 8; what++) {
-                l.add((long) x.oneOf(one, what));
-            }
-        }
-        for (int s = 0; s < 8; s++) {
-            l.add((long) x.holds(s));
-            for (int i = 0; i < 40; i++) {
-                l.add(x.element(s, i));
-            }
-        }
-        return l;
     }
 }

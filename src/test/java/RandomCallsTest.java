@@ -13,10 +13,14 @@ public final class RandomCallsTest {
     private static final int[] ODD = {-1, -2, -1000, 8, 9, 21, 41, 100, 256, 1000, Integer.MAX_VALUE, Integer.MIN_VALUE,
         Integer.MAX_VALUE - 3};
 
+    /** So that the last call, which may be a whole yard, and the whole state have room within 512 calls. */
+    private static final int ENOUGH = 280;
+
     private final Random random;
     private final ThroughTheChain x = new ThroughTheChain();
     private final Model m = new Model();
     private final StringBuilder told = new StringBuilder();
+    private int calls = 0;
 
     private RandomCallsTest(long seed) {
         random = new Random(seed);
@@ -41,6 +45,7 @@ public final class RandomCallsTest {
     }
 
     private void due(String call, long got, long want) {
+        calls++;
         told.append(call).append(" = ").append(got).append('\n');
         if (got != want) {
             throw new IllegalStateException(call + " answered " + got + ", due is " + want + " behind\n" + told);
@@ -209,7 +214,7 @@ public final class RandomCallsTest {
         }
         for (int s = 0; s < 8; s++) {
             due("holds " + s, x.holds(s), m.holds(s));
-            for (int k = 0; k < 40; k++) due("element " + s + " " + k, x.element(s, k), m.element(s, k));
+            for (int k = 0; k < 40 && calls < Told.MOST_CALLS - 8; k++) due("element " + s + " " + k, x.element(s, k), m.element(s, k));
         }
     }
 
@@ -234,7 +239,7 @@ public final class RandomCallsTest {
             RandomCallsTest t = new RandomCallsTest(r);
             try {
                 t.begin();
-                for (int k = 0; k < 60; k++) t.call(NAMES[t.random.nextInt(NAMES.length)]);
+                for (int k = 0; k < 60 && t.calls < ENOUGH; k++) t.call(NAMES[t.random.nextInt(NAMES.length)]);
                 t.wholeState();
             } catch (RuntimeException e) {
                 System.out.println("run " + r + ": " + e);

@@ -35,7 +35,8 @@ final class ShelfEdges {
     }
 
     private static void row(Edges e) {
-        e.test(2, "SHELVES 0 to 7 hold NOTHING (at first), a ROW, or one of the PEOPLE.", "SHELF 0 and 7 are taken, -1 and 8 are BAD",
+        e.test(2, "SHELVES 0 to 7 hold NOTHING (at first), a ROW, or one of the PEOPLE.",
+            "SHELF 0 and 7 are taken, -1 and 8 are BAD",
             t -> t.upon(SHELVES).due("row(0, 0, 1) = 1 holds(0) = 0").due("row(7, 0, 1) = 1 holds(7) = 0")
             .refused("row(-1, 0, 1) = -2 row(8, 0, 1) = -2 row(" + LEAST + ", 0, 1) = -2 row(" + MOST + ", 0, 1) = -2"));
         e.test(2, "A ROW has a SORT (0 bytes, 1 shorts, 2 ints, 3 longs, 4 booleans)", "SORT 0 and 4 are taken, -1 and 5 are BAD",
@@ -54,14 +55,16 @@ final class ShelfEdges {
             .due("row(0, 3, 1) = 1 element(0, 0) = 0 element(0, 1) = 0 element(0, 39) = 0")
             .due("row(1, 4, 2) = 1 element(1, 1) = 0"));
         e.test(2, "SHELF s holds a new ROW: 1. BAD.", "a full SHELF holds the new ROW alone, and all eight can be full",
-            t -> t.upon(SHELVES).due("row(4, 0, 2) = 1 holds(4) = 0 status(10) = 5").due("row(0, 1, 2) = 1 holds(0) = 1 status(10) = 5")
+            t -> t.upon(SHELVES).due("row(4, 0, 2) = 1 holds(4) = 0 status(10) = 5")
+                .due("row(0, 1, 2) = 1 holds(0) = 1 status(10) = 5")
             .due("row(5, 0, 0) = 1 row(6, 0, 0) = 1 row(7, 0, 0) = 1 status(10) = 8 row(7, 1, 40) = 1 status(10) = 8"));
     }
 
     private static void set(Edges e) {
         String sentence = "Element i of the ROW in SHELF s becomes v: 1. BAD SHELF; OTHER; NOTHING; BAD i.";
         e.test(3, sentence, "i 0 and the last are taken, -1 and the one behind are BAD", t -> t.upon(SHELVES)
-            .due("set(1, 0, 5) = 1 element(1, 0) = 5 element(1, 1) = 8").due("set(1, 2, 5) = 1 element(1, 2) = 5 element(1, 1) = 8")
+            .due("set(1, 0, 5) = 1 element(1, 0) = 5 element(1, 1) = 8")
+            .due("set(1, 2, 5) = 1 element(1, 2) = 5 element(1, 1) = 8")
             .due("set(0, 39, 5) = 1 element(0, 39) = 5")
             .refused("set(1, -1, 5) = -2 set(1, 3, 5) = -2 set(0, 40, 5) = -2 set(0, -1, 5) = -2")
             .refused("set(1, " + LEAST + ", 5) = -2 set(1, " + MOST + ", 5) = -2"));
@@ -76,7 +79,8 @@ final class ShelfEdges {
     }
 
     private static void lowestBits(Edges e) {
-        String sentence = "what is put in keeps its lowest bits (of booleans: whether it is not 0); told they are numbers (1, 0).";
+        String sentence = "what is put in keeps its lowest bits (of booleans: whether it is not 0); told they are numbers "
+            + "(1, 0).";
         e.test(3, sentence, "bytes: -128 to 127 stay, 128 and -129 wrap around", t -> t.upon("row(0, 0, 1) ")
             .due(put(127, 127)).due(put(128, -128)).due(put(-128, -128)).due(put(-129, 127)).due(put(255, -1)).due(put(256, 0))
             .due(put(Long.MAX_VALUE, -1)).due(put(Long.MIN_VALUE, 0)));
@@ -127,7 +131,8 @@ final class ShelfEdges {
             .refused("copy(5, 1, -1, 0, 1) = -2 copy(5, 1, 0, -1, 1) = -2 copy(5, 1, 0, 0, -1) = -2 copy(5, 1, 1, 1, -1) = -2")
             .refused("copy(5, 1, -1, 0, 0) = -2 copy(5, 1, 0, -1, 0) = -2 copy(5, 1, 0, 0, " + LEAST + ") = -2"));
         e.test(4, refusals, "i, j and n whose sum would wrap around are BAD", t -> t.upon(five)
-            .refused("copy(5, 1, " + MOST + ", 0, 1) = -2 copy(5, 1, 0, " + MOST + ", 1) = -2 copy(5, 1, 1, 0, " + MOST + ") = -2")
+            .refused("copy(5, 1, " + MOST + ", 0, 1) = -2 copy(5, 1, 0, " + MOST + ", 1) = -2 "
+                + "copy(5, 1, 1, 0, " + MOST + ") = -2")
             .refused("copy(5, 1, " + LEAST + ", 0, " + LEAST + ") = -2 copy(5, 1, 0, " + MOST + ", " + MOST + ") = -2")
             .refused("copy(5, 1, " + MOST + ", " + MOST + ", 2) = -2"));
         e.test(4, refusals, "OTHER: somebody in either, ROWS of two SORTS", t -> t.upon(five)
@@ -144,7 +149,8 @@ final class ShelfEdges {
         String element = "Element i of the ROW; 0: none, no ROW (nothing is refused).";
         e.test(5, element, "i 0 and the last have an element, -1 and the one behind none: 0", t -> t
             .upon("fill 0 3: 7 8 9 row(1, 3, 40) set(1, 39, 5) row(2, 3, 0) ")
-            .same("element(0, 0) = 7 element(0, 2) = 9 element(0, -1) = 0 element(0, 3) = 0 element(1, 39) = 5 element(1, 40) = 0")
+            .same("element(0, 0) = 7 element(0, 2) = 9 element(0, -1) = 0 element(0, 3) = 0 element(1, 39) = 5 "
+                + "element(1, 40) = 0")
             .same("element(2, 0) = 0 element(2, -1) = 0 element(0, " + LEAST + ") = 0 element(0, " + MOST + ") = 0"));
         e.test(5, element, "elements of a longer ROW that was there are none: 0", t -> t
             .upon("fill 0 3: 7 8 9 row(0, 3, 1) ").same("element(0, 1) = 0 element(0, 2) = 0"));
@@ -155,13 +161,15 @@ final class ShelfEdges {
         e.test(6, holds, "SHELF 0 and 7 are told, of -1 and 8 NONE", t -> t.upon("row(0, 0, 1) row(7, 4, 0) ")
             .same("holds(0) = 0 holds(7) = 4 holds(-1) = -1 holds(8) = -1 holds(" + LEAST + ") = -1 holds(" + MOST + ") = -1"));
         e.test(6, holds, "NOTHING, SORTS 0 to 4, the first and the eighth of the PEOPLE", t -> t
-            .upon("one(0, 0, 5, 5, 5) ".repeat(8) + "row(0, 0, 0) row(1, 1, 1) row(2, 2, 2) row(3, 3, 3) row(4, 4, 4) show(5, 0) show(6, 7) ")
+            .upon("one(0, 0, 5, 5, 5) ".repeat(8) + "row(0, 0, 0) row(1, 1, 1) row(2, 2, 2) row(3, 3, 3) row(4, 4, 4) "
+                + "show(5, 0) show(6, 7) ")
             .same("holds(0) = 0 holds(1) = 1 holds(2) = 2 holds(3) = 3 holds(4) = 4 holds(5) = 10 holds(6) = 17 holds(7) = -1"));
     }
 
     private static void show(Edges e) {
         String sentence = "SHELF s holds somebody, or NOTHING (one NONE): 1. BAD.";
-        e.test(7, sentence, "the first and the last of the PEOPLE are taken, -2 and the number behind are BAD", t -> t.upon(SHELVES)
+        e.test(7, sentence, "the first and the last of the PEOPLE are taken, -2 and the number behind are BAD", t -> t
+            .upon(SHELVES)
             .due("show(5, 0) = 1 holds(5) = 10").due("show(5, 1) = 1 holds(5) = 11").due("show(0, 1) = 1 holds(0) = 11")
             .refused("show(5, -2) = -2 show(5, 2) = -2 show(5, 8) = -2 show(5, " + LEAST + ") = -2 show(5, " + MOST + ") = -2")
             .refused("show(0, 2) = -2 show(4, 2) = -2"));
@@ -193,11 +201,13 @@ final class ShelfEdges {
             .same("says(0, 4) = 39 says(7, 5) = 32 says(0, 0) = 0 says(7, 0) = 1")
             .upon("ask(0, 0) one(0, 4, 0, 0, 0) one(1, 5, 0, 0, 9) show(0, 0) show(7, 1) ")
             .same("says(0, 4) = 0 says(7, 5) = 2"));
-        String kinds = "one(0, 0, 4, 5, 3) one(0, 1, 4, 5, 3) one(0, 2, 4, 5, 3) one(0, 3, 4, 5, 3) one(0, 4, 4, 5, 3) one(0, 5, 4, 5, 3) "
+        String kinds = "one(0, 0, 4, 5, 3) one(0, 1, 4, 5, 3) one(0, 2, 4, 5, 3) one(0, 3, 4, 5, 3) one(0, 4, 4, 5, 3) "
+            + "one(0, 5, 4, 5, 3) "
             + "show(0, 0) show(1, 1) show(2, 2) show(3, 3) show(4, 4) show(5, 5) row(6, 0, 1) ";
         e.test(8, "each of a KIND: 0 HAND; 1 FIRM, 2 WEAK, 4 HEAVY, each under HAND; 3 SISTER, under FIRM; 5 SLY, under WEAK;",
             "taken for each KIND that they are or are under, OTHER for all else", t -> t.upon(kinds)
-            .same("says(0, 0) = 0 says(1, 0) = 0 says(1, 1) = 7 says(2, 0) = 0 says(2, 2) = 2 says(3, 0) = 0 says(3, 1) = 7 says(3, 3) = 0")
+            .same("says(0, 0) = 0 says(1, 0) = 0 says(1, 1) = 7 says(2, 0) = 0 says(2, 2) = 2 says(3, 0) = 0 says(3, 1) = 7 "
+                + "says(3, 3) = 0")
             .same("says(4, 0) = 0 says(4, 4) = 11 says(5, 0) = 0 says(5, 2) = 2 says(5, 5) = 10")
             .refused("says(0, 1) = -3 says(0, 2) = -3 says(0, 3) = -3 says(0, 4) = -3 says(0, 5) = -3")
             .refused("says(1, 2) = -3 says(1, 3) = -3 says(1, 4) = -3 says(1, 5) = -3")

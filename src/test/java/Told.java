@@ -1,5 +1,6 @@
 import java.lang.reflect.InvocationTargetException;
 import java.lang.reflect.Method;
+import java.lang.reflect.Modifier;
 import java.util.ArrayList;
 import java.util.HashMap;
 import java.util.List;
@@ -24,19 +25,34 @@ final class Told {
 
     private static final Pattern STEP = Pattern.compile(
         "\\s*(?:(\\w+)\\(([^)]*)\\)|(feed|read) '([^']*)'|fill (\\d) (\\d):((?: -?\\d+)*))(?: = (-?\\d+))?", Pattern.DOTALL);
-    private static final Map<String, Method> FACE = new HashMap<>();
-
-    static {
-        for (Method m : ThroughTheChain.class.getMethods()) {
-            if (m.getDeclaringClass() == ThroughTheChain.class) {
-                FACE.put(m.getName(), m);
-            }
-        }
-    }
+    private static final Map<String, Method> FACE = face(ThroughTheChain.class);
+    private static final Map<String, Method> MODEL = face(Model.class);
 
     final List<String> wrong = new ArrayList<>();
-    private final ThroughTheChain x = new ThroughTheChain();
+    private final Object x;
+    private final Map<String, Method> face;
     private int calls = 0;
+
+    Told() {
+        x = new ThroughTheChain();
+        face = FACE;
+    }
+
+    /** The same calls on the model. */
+    Told(Model model) {
+        x = model;
+        face = MODEL;
+    }
+
+    private static Map<String, Method> face(Class<?> of) {
+        Map<String, Method> face = new HashMap<>();
+        for (Method m : of.getDeclaredMethods()) {
+            if (!Modifier.isPrivate(m.getModifiers())) {
+                face.put(m.getName(), m);
+            }
+        }
+        return face;
+    }
 
     /** Each step of a text by itself. */
     static List<String> steps(String text) {
@@ -116,7 +132,7 @@ final class Told {
     }
 
     long call(String name, long... numbers) {
-        Method m = FACE.get(name);
+        Method m = face.get(name);
         if (m == null || m.getParameterCount() != numbers.length) {
             throw new IllegalArgumentException("no such call: " + name + " with " + numbers.length);
         }

@@ -66,6 +66,10 @@ public final class TruthTest {
         wrong(x, 0, Long.MIN_VALUE);
         wrong(x, 0, (1L << 32) + 4100);
         wrong(x, 0, (1L << 40) + 3001);
+    }
+
+    private static void judgeOtherwise() {
+        ThroughTheChain x = six();
         x.ask(1, 4);
         wrong(x, -1, 4000);
         wrong(x, -1, 4001);
@@ -396,6 +400,7 @@ public final class TruthTest {
     public static void main(String[] args) {
         move();
         judge();
+        judgeOtherwise();
         behindAndBooked();
         orderAndBest();
         run();
