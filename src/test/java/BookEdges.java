@@ -75,6 +75,14 @@ final class BookEdges {
             wrong(t, SIX, 2, 0, " " + LEAST);
             wrong(t, SIX, 2, 0, " " + MOST);
         });
+        e.test(41, sentence, "numbers below 0, where 0 could run and tear", t -> {
+            String yard = "one(0, 0, 5, 20, 0) " + YardEdges.crowd(1, 2) + "ask(4, 1) ";
+            wrong(t, yard, 3, -1, " 1");
+            wrong(t, yard, 3, -1, " 2");
+            wrong(t, yard, 3, 0, " -1");
+            wrong(t, yard, 3, 0, " -2");
+            wrong(t, yard, 3, 0, " -99");
+        });
         e.test(41, sentence, "of every SORT: what it holds is the RUN", t -> {
             wrong(t, SIX + "ask(4, 1) ", 0, -1, " 101");
             wrong(t, SIX + "ask(4, 1) ", 0, 0, " 127");

@@ -1,8 +1,9 @@
 import java.util.ArrayList;
 import java.util.List;
+import java.util.function.Consumer;
 import java.util.function.Function;
 
-/** One boundary of one promise, with all that is held there. Every check is made on new objects. */
+/** One boundary or sentence of the document, with all that is held there. Every check is made on new objects. */
 final class Edge {
     /** Puts by another state, so that a call that must leave alone what is kept is seen not to. */
     private static final String KEPT = "ask(0, 3) ask(3, 50) seed(5) image() ask(0, 9) ask(3, 20) seed(1) ";
@@ -15,6 +16,29 @@ final class Edge {
     int checks = 0;
     private String lead = "";
     private boolean isBare = false;
+
+    static Edge held(Consumer<Edge> body) {
+        Edge edge = new Edge();
+        try {
+            body.accept(edge);
+        } catch (IllegalArgumentException | ArithmeticException e) {
+            edge.wrong.add("the test itself is wrong: " + e.getMessage());
+        }
+        return edge;
+    }
+
+    /** Prints what was held here, and the sentence if that was wrong; whether all was right. */
+    boolean tell(String name, String sentence) {
+        if (wrong.isEmpty()) {
+            System.out.println("  ok " + name + " (" + checks + ")");
+            return true;
+        }
+        System.out.println("  WRONG " + name + ": \"" + sentence + "\"");
+        for (String w : wrong) {
+            System.out.println("    " + w);
+        }
+        return false;
+    }
 
     /** The calls that lead to where the next checks are made. */
     Edge upon(String calls) {
@@ -72,6 +96,15 @@ final class Edge {
         lead = was + " feed '" + text + "'";
         refused("yard() = " + (-20 - place));
         lead = was;
+        return this;
+    }
+
+    /** What is held without calls. */
+    Edge that(boolean isSo, String otherwise) {
+        checks++;
+        if (!isSo) {
+            wrong.add(otherwise);
+        }
         return this;
     }
 

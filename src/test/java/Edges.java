@@ -31,25 +31,13 @@ final class Edges {
     private int failed = 0;
 
     void test(int promise, String sentence, String boundary, Consumer<Edge> body) {
-        Edge edge = new Edge();
-        try {
-            body.accept(edge);
-        } catch (IllegalArgumentException | ArithmeticException e) {
-            edge.wrong.add("the test itself is wrong: " + e.getMessage());
-        }
+        Edge edge = Edge.held(body);
         tests++;
         sentences.add(flat(sentence));
         promises.add(promise);
         refused.computeIfAbsent(promise, p -> new TreeSet<>()).addAll(edge.refusals);
-        String name = "promise " + promise + ": " + boundary;
-        if (edge.wrong.isEmpty()) {
-            System.out.println("  ok " + name + " (" + edge.checks + ")");
-            return;
-        }
-        failed++;
-        System.out.println("  WRONG " + name + ": \"" + sentence + "\"");
-        for (String w : edge.wrong) {
-            System.out.println("    " + w);
+        if (!edge.tell("promise " + promise + ": " + boundary, sentence)) {
+            failed++;
         }
     }
 
@@ -58,7 +46,7 @@ final class Edges {
         System.out.println("  WRONG " + what);
     }
 
-    private static String flat(String text) {
+    static String flat(String text) {
         return text.replaceAll("[`\\s]+", " ").strip();
     }
 

@@ -132,7 +132,8 @@ final class TapeEdges {
             .fault("yards 000", 6).fault("bell 099", 5).fault("tired 000 7", 6)
             .fault("tired 0 007", 8).fault("one 001 0 0 0 0", 4).fault("one 0 000 0 0 0", 6).fault("one 0 0 000 0 0", 8)
             .fault("one 0 0 0 000 0", 10)
-            .fault("one 0 0 0 0 000", 12).fault("run 003 0 1", 4).fault("run 3 000 1", 6).fault("run 3 0 001", 8));
+            .fault("one 0 0 0 0 000", 12).fault("run 003 0 1", 4).fault("run 3 000 1", 6).fault("run 3 0 001", 8)
+            .fault("run 5 0 000", 8).fault("run 5 0 001", 8));
         e.test(14, sentence, "a NUMBER that would wrap around an int or a long is a FAULT", t -> t.upon(SIX)
             .fault("yards 4294967299", 6).fault("yards 18446744073709551619", 6).fault("run 4294967299 0 1", 4)
             .fault("yards " + "0".repeat(243) + "3", 6));
