@@ -19,7 +19,8 @@ final class AheadWalk {
         String strong = "ask(0, 0) " + "one(0, 0, 20, 0, 0) ".repeat(3) + "one(1, 0, 20, 0, 0) ".repeat(4);
         // FORCE 10 against 10, 10 and then 9: 4 and 2, 3 and 3, 2 and 4.
         String torn = "ask(0, 30) " + "one(0, 0, 6, 0, 0) ".repeat(3) + "one(1, 0, 6, 0, 0) ".repeat(3);
-        w.says("How often, behind RUNS of a PLAY by a rule (all of them, one after the other), the CHAIN that has more isn't the one "
+        w.says("How often, behind RUNS of a PLAY by a rule (all of them, one after the other), the CHAIN that has more isn't "
+            + "the one "
             + "that had more behind the last RUN of it behind which one had more (the first such doesn't count).", t -> t
             .upon(strong + "ask(3, 1) ").same("leads(0) = 0 leads(1) = 0")
             .upon(strong + "ask(3, 2) ").same("leads(0) = 1 leads(1) = 1")
@@ -27,8 +28,9 @@ final class AheadWalk {
             .upon(ChoiceEdges.STRONG).same("leads(0) = 0 leads(1) = 0")
             .upon(torn + "ask(3, 2) ").same("leads(0) = 0").upon(torn + "ask(3, 3) ").same("leads(0) = 1 leads(1) = 1")
             .same("play(0, 2) = 2").due("leads(0) = 1 leads(1) = 1 leads(0) = 1")
-            // The first to have more is CHAIN 1, then 0: 2 and 5, 3 and 4, 4 and 3.
-            .upon("ask(0, 0) " + "one(0, 0, 20, 0, 0) ".repeat(2) + "one(1, 0, 20, 0, 0) ".repeat(5) + "ask(3, 1) ").same("leads(0) = 0"));
+            // Behind the one RUN CHAIN 1 has more, 3 and 4: the first such.
+            .upon("ask(0, 0) " + "one(0, 0, 20, 0, 0) ".repeat(2) + "one(1, 0, 20, 0, 0) ".repeat(5) + "ask(3, 1) ")
+            .same("leads(0) = 0"));
         w.says("BAD.", t -> t.upon(SIX).refused("leads(2) = -2 leads(-1) = -2"));
     }
 
@@ -42,7 +44,8 @@ final class AheadWalk {
         w.promise(37, "int first(int d)");
         w.says("Who is called first in it (d 1, 2).", t -> t.upon(WALL).same("first(1) = 3 first(2) = 3"));
         w.says("BAD;", t -> t.upon(WALL).refused("first(0) = -2 first(3) = -2 first(-1) = -2"));
-        w.says("STUCK: OVER.", t -> t.refused("first(1) = -5 first(2) = -5 first(0) = -2").upon(JointEdges.RUNG).refused("first(1) = -5"));
+        w.says("STUCK: OVER.", t -> t.refused("first(1) = -5 first(2) = -5 first(0) = -2")
+            .upon(JointEdges.RUNG).refused("first(1) = -5"));
     }
 
     private static void standing(Walk w) {
@@ -53,9 +56,12 @@ final class AheadWalk {
         w.says("FULL: more than 7.", t -> t.upon(YardEdges.crowd(8, 0)).refused("together(0) = -6").same("together(1) = 0")
             .upon(YardEdges.crowd(7, 0)).same("together(0) = 0"));
         w.promise(39, "int swap(int chain, int what)");
-        w.says("SWAP: the first PLACE (what 0), by how much more (1).", t -> t.upon(four).same("swap(0, 0) = 1 swap(0, 1) = 2"));
-        w.says("-1002;", t -> t.upon(four).refused("swap(2, 0) = -1002 swap(-1, 0) = -1002 swap(0, 2) = -1002 swap(1, -1) = -1002"));
-        w.says("-1005: fewer than 2.", t -> t.upon(four).refused("swap(1, 0) = -1005 swap(1, 1) = -1005").upon(YardEdges.crowd(2, 0))
+        w.says("SWAP: the first PLACE (what 0), by how much more (1).", t -> t.upon(four)
+            .same("swap(0, 0) = 1 swap(0, 1) = 2"));
+        w.says("-1002;", t -> t.upon(four)
+            .refused("swap(2, 0) = -1002 swap(-1, 0) = -1002 swap(0, 2) = -1002 swap(1, -1) = -1002"));
+        w.says("-1005: fewer than 2.", t -> t.upon(four).refused("swap(1, 0) = -1005 swap(1, 1) = -1005")
+            .upon(YardEdges.crowd(2, 0))
             .same("swap(0, 0) = 0 swap(0, 1) = 0"));
         w.promise(40, "int could(int joint, int sure)");
         w.says("COULD (sure 0), MUST (1; bits).", t -> t.upon(SIX + "ask(1, 4) ")
@@ -71,22 +77,28 @@ final class AheadWalk {
         w.says("A BOOK of the first n elements (0 to 40) of the ROW in SHELF s: WRONG; NONE.", t -> t.upon(BOOK)
             .same("judge(0, 0) = -1 judge(0, 1) = -1 judge(0, 2) = -1 judge(0, 3) = 2")
             .upon(BOOK + "row(0, 2, 40) ").same("judge(0, 40) = 0")
-            .upon("one(0, 0, 5, 20, 0) " + YardEdges.crowd(1, 2) + "ask(4, 1) fill 0 3: 1 -1 fill 1 3: -1 ").same("judge(0, 1) = -1 judge(1, 1) = 0")
+            .upon("one(0, 0, 5, 20, 0) " + YardEdges.crowd(1, 2) + "ask(4, 1) fill 0 3: 1 -1 fill 1 3: -1 ")
+            .same("judge(0, 1) = -1 judge(1, 1) = 0")
             .upon(SIX + "fill 0 3: -1 ").same("judge(0, 1) = 0").upon(SIX + "fill 0 3: 4294972296 ").same("judge(0, 1) = 0")
             .upon(YardEdges.crowd(2, 6) + "fill 0 3: 7000 8000 ").same("judge(0, 1) = -1 judge(0, 2) = 1")
-            .upon(SIX + "ask(4, 1) fill 0 3: 0 ").same("judge(0, 1) = -1").upon(SIX + "ask(4, 1) fill 0 3: 101 ").same("judge(0, 1) = -1")
+            .upon(SIX + "ask(4, 1) fill 0 3: 6000 ").same("judge(0, 1) = 0")
+            .upon(SIX + "ask(4, 1) fill 0 3: 0 ").same("judge(0, 1) = -1")
+            .upon(SIX + "ask(4, 1) fill 0 3: 101 ").same("judge(0, 1) = -1")
             // 5 stands beside 0 then: 4 has FORCE 13 against 6, where it was 14.
             .upon(SIX + "fill 0 3: 5100 1000 4001 ").same("judge(0, 3) = -1"));
-        w.says("BAD SHELF, n;", t -> t.upon(BOOK).refused("judge(8, 0) = -2 judge(-1, 0) = -2 judge(1, 41) = -2 judge(2, -1) = -2"));
+        w.says("BAD SHELF, n;", t -> t.upon(BOOK)
+            .refused("judge(8, 0) = -2 judge(-1, 0) = -2 judge(1, 41) = -2 judge(2, -1) = -2"));
         w.says("OTHER;", t -> t.upon(BOOK).refused("judge(1, 0) = -3 judge(1, 40) = -3"));
         w.says("NOTHING;", t -> t.upon(BOOK).refused("judge(2, 0) = -4 judge(2, 40) = -4"));
         w.says("BAD: fewer elements.", t -> t.upon(BOOK).refused("judge(0, 4) = -2 judge(0, 40) = -2"));
         w.promise(42, "int behind(int s, int n, int what)");
         // 5 goes over and is HELD, 1 goes over and is HELD: 3 and 3, 4 and 2, 3 and 3.
         w.says("Behind it: how many CHAIN 0 has (what 0), CHAIN 1 (1), WON (2; NONE).", t -> t.upon(BOOK)
-            .same("behind(0, 0, 0) = 3 behind(0, 1, 0) = 4 behind(0, 1, 1) = 2 behind(0, 2, 0) = 3 behind(0, 2, 1) = 3 behind(0, 1, 2) = -1")
+            .same("behind(0, 0, 0) = 3 behind(0, 1, 0) = 4 behind(0, 1, 1) = 2 behind(0, 2, 0) = 3 behind(0, 2, 1) = 3 "
+            + "behind(0, 1, 2) = -1")
             .upon(BOOK + "ask(3, 1) ").same("behind(0, 1, 2) = 0"));
-        w.says("BAD, also what;", t -> t.upon(BOOK).refused("behind(8, 0, 0) = -2 behind(1, 41, 0) = -2 behind(1, 0, 3) = -2 behind(2, 0, -1) = -2"));
+        w.says("BAD, also what;", t -> t.upon(BOOK)
+            .refused("behind(8, 0, 0) = -2 behind(1, 41, 0) = -2 behind(1, 0, 3) = -2 behind(2, 0, -1) = -2"));
         w.says("OTHER;", t -> t.upon(BOOK).refused("behind(1, 0, 0) = -3"));
         w.says("NOTHING;", t -> t.upon(BOOK).refused("behind(2, 0, 0) = -4"));
         w.says("BAD;", t -> t.upon(BOOK).refused("behind(0, 4, 0) = -2"));
@@ -97,7 +109,8 @@ final class AheadWalk {
     private static void cameToPass(Walk w) {
         w.promise(43, "int booked(int s, int n)");
         w.says("It comes to pass in truth: RUNS.", t -> t.upon(BOOK)
-            .due("booked(0, 2) = 2 line(0) = 1052 line(1) = 1314 status(1) = 2 status(2) = 0 status(7) = 4 oneOf(3, 3) = 1 oneOf(0, 3) = 1")
+            .due("booked(0, 2) = 2 line(0) = 1052 line(1) = 1314 status(1) = 2 status(2) = 0 status(7) = 4 oneOf(3, 3) = 1 "
+            + "oneOf(0, 3) = 1")
             .due("booked(0, 1) = 1 line(0) = 10512 fill 0 2: 1000 = 1 booked(0, 1) = 2 line(1) = 1314")
             .same("booked(0, 0) = 0"));
         w.says("BAD;", t -> t.upon(BOOK).refused("booked(8, 0) = -2 booked(-1, 0) = -2 booked(1, 41) = -2 booked(2, -1) = -2"));

@@ -37,6 +37,11 @@ final class BookEdges {
             wrong(t, YardEdges.crowd(2, 6), 3, -1, " 7000");
             wrong(t, YardEdges.crowd(2, 6), 3, 0, " 8000");
             wrong(t, SIX + "ask(4, 1) ", 3, -1, " 0");
+            wrong(t, SIX + "ask(4, 1) ", 3, -1, " 1000");
+            wrong(t, SIX + "ask(4, 1) ", 3, 0, " 5000");
+            wrong(t, SIX + "ask(4, 1) ", 3, 0, " 6000");
+            wrong(t, SIX + "ask(4, 1) ", 3, 0, " 7000");
+            wrong(t, SIX + "ask(4, 1) ", 3, 0, " 8000");
         });
         e.test(41, sentence, "the JOINT: 0 and the last can be, the one behind can't", t -> {
             wrong(t, SIX, 3, -1, " 5000");

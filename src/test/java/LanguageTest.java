@@ -1,3 +1,14 @@
+import com.sun.source.tree.CompilationUnitTree;
+import com.sun.source.tree.IdentifierTree;
+import com.sun.source.tree.LambdaExpressionTree;
+import com.sun.source.tree.MemberSelectTree;
+import com.sun.source.tree.MethodInvocationTree;
+import com.sun.source.tree.MethodTree;
+import com.sun.source.tree.NewArrayTree;
+import com.sun.source.tree.NewClassTree;
+import com.sun.source.tree.Tree;
+import com.sun.source.util.JavacTask;
+import com.sun.source.util.TreeScanner;
 import java.lang.reflect.Field;
 import java.lang.reflect.Method;
 import java.lang.reflect.Modifier;
@@ -5,10 +16,15 @@ import java.nio.file.Files;
 import java.nio.file.Path;
 import java.util.ArrayList;
 import java.util.List;
+import java.util.Map;
 import java.util.Set;
+import java.util.TreeMap;
 import java.util.TreeSet;
 import java.util.regex.Matcher;
 import java.util.regex.Pattern;
+import javax.tools.JavaCompiler;
+import javax.tools.StandardJavaFileManager;
+import javax.tools.ToolProvider;
 
 /** The rules of LANGUAGE.md that a program can look after: the face, words that may not stand, sizes. */
 public final class LanguageTest {
@@ -26,7 +42,61 @@ public final class LanguageTest {
         "\\bimport\\b", "\\bpackage\\b", "->", "::", "Exact\\b", "\\bSystem\\.(?!arraycopy)",
         "\\bprotected\\b", "\\bhashCode\\b", "\\btoString\\b", "\\bgoto\\b", "\\bThread\\b", "\\bInteger\\.[A-Z]"};
 
+    private static final int MOST_DEEP = 8;
+
     private static int wrong = 0;
+
+    /** Which methods of the file each method calls, by their names; and what is made where. */
+    private static final class Calls extends TreeScanner<Void, String> {
+        final Map<String, Set<String>> called = new TreeMap<>();
+
+        @Override
+        public Void visitMethod(MethodTree method, String within) {
+            called.computeIfAbsent(method.getName().toString(), name -> new TreeSet<>());
+            return super.visitMethod(method, method.getName().toString());
+        }
+
+        @Override
+        public Void visitMethodInvocation(MethodInvocationTree call, String within) {
+            Tree name = call.getMethodSelect();
+            if (within != null && name instanceof IdentifierTree i) called.get(within).add(i.getName().toString());
+            if (within != null && name instanceof MemberSelectTree m) called.get(within).add(m.getIdentifier().toString());
+            return super.visitMethodInvocation(call, within);
+        }
+
+        @Override
+        public Void visitNewClass(NewClassTree made, String within) {
+            madeIn(within, made);
+            return super.visitNewClass(made, within);
+        }
+
+        @Override
+        public Void visitNewArray(NewArrayTree made, String within) {
+            madeIn(within, made);
+            return super.visitNewArray(made, within);
+        }
+
+        @Override
+        public Void visitLambdaExpression(LambdaExpressionTree lambda, String within) {
+            tell("a lambda in " + within);
+            return super.visitLambdaExpression(lambda, within);
+        }
+
+        private static void madeIn(String within, Tree made) {
+            if (within != null && !within.equals("<init>")) tell(within + " makes " + made);
+        }
+
+        /** How many stand open at once, of methods that are no recursion. */
+        int depth(String name, Set<String> open) {
+            int most = 0;
+            open.add(name);
+            for (String next : called.get(name)) {
+                if (called.containsKey(next) && !open.contains(next)) most = Math.max(most, depth(next, open));
+            }
+            open.remove(name);
+            return most + 1;
+        }
+    }
 
     private static void tell(String what) {
         wrong++;
@@ -97,8 +167,22 @@ public final class LanguageTest {
         }
     }
 
+    private static void calls(Path source) throws Exception {
+        JavaCompiler compiler = ToolProvider.getSystemJavaCompiler();
+        Calls calls = new Calls();
+        try (StandardJavaFileManager files = compiler.getStandardFileManager(null, null, null)) {
+            JavacTask task = (JavacTask) compiler.getTask(null, files, null, null, null, files.getJavaFileObjects(source));
+            for (CompilationUnitTree unit : task.parse()) calls.scan(unit, null);
+        }
+        for (String name : calls.called.keySet()) {
+            int depth = calls.depth(name, new TreeSet<>());
+            if (depth > MOST_DEEP) tell(name + " goes " + depth + " calls deep");
+        }
+    }
+
     public static void main(String[] args) throws Exception {
         face();
+        calls(Path.of("src/main/java/ThroughTheChain.java"));
         words(Path.of("src/main/java/ThroughTheChain.java"));
         System.out.println("LanguageTest: " + (wrong == 0 ? "the rules are kept" : wrong + " rules are broken"));
         if (wrong != 0) System.exit(1);

@@ -40,7 +40,8 @@ public final class ReadmeTest {
 
     /** All blocks one after the other, as a reader would type them; each answered call adds to what is not as it says. */
     private static String program(List<String> blocks) {
-        StringBuilder b = new StringBuilder("public final class Shown {\n    private final StringBuilder other = new StringBuilder();\n"
+        StringBuilder b = new StringBuilder("public final class Shown {\n"
+            + "    private final StringBuilder other = new StringBuilder();\n"
             + "    private void due(String call, long got, long want) {\n"
             + "        if (got != want) other.append(call).append(\" answered \").append(got).append('\\n');\n    }\n"
             + "    public String otherwise() {\n");
@@ -48,7 +49,7 @@ public final class ReadmeTest {
             for (String line : block.split("\n")) {
                 Matcher m = ANSWERED.matcher(line);
                 if (m.matches()) {
-                    b.append("due(\"").append(m.group(1)).append("\", ").append(m.group(1)).append(", ").append(m.group(2)).append("L);\n");
+                    b.append(String.format("due(\"%1$s\", %1$s, %2$sL);%n", m.group(1), m.group(2)));
                 } else {
                     b.append(line).append('\n');
                 }
@@ -73,8 +74,9 @@ public final class ReadmeTest {
         Path source = out.resolve("Shown.java");
         Files.writeString(source, program(blocks));
         JavaCompiler compiler = ToolProvider.getSystemJavaCompiler();
-        if (compiler == null || compiler.run(null, null, null, "-cp", System.getProperty("java.class.path"), "-d", out.toString(),
-                source.toString()) != 0) {
+        String path = System.getProperty("java.class.path");
+        if (compiler == null
+                || compiler.run(null, null, null, "-cp", path, "-d", out.toString(), source.toString()) != 0) {
             tell("the Java that is shown does not compile");
         } else {
             try (URLClassLoader loader = new URLClassLoader(new URL[] {out.toUri().toURL()})) {
@@ -100,7 +102,7 @@ public final class ReadmeTest {
         Files.delete(folder);
     }
 
-    /** The first cells of all tables, with a row's names apart. */
+    /** What the first cells of the table behind a heading name. */
     private static Set<String> firstCells(String readme, String heading, String cell) {
         Set<String> names = new TreeSet<>();
         int from = Math.max(0, readme.indexOf(heading));
@@ -132,6 +134,30 @@ public final class ReadmeTest {
         }
     }
 
+    /** The numbers of promises in each row of calls are those that the document has for these calls. */
+    private static void promises(String readme, String document) {
+        Matcher row = Pattern.compile("(?m)^\\| (`[^|]*`) \\|[^|]*\\| ([^|]*) \\|$").matcher(readme);
+        while (row.find()) {
+            Set<Integer> due = new TreeSet<>();
+            for (String call : row.group(1).replace("`", "").split(", ")) {
+                Matcher promise = Pattern.compile("## Promise (\\d+): " + call + "\n").matcher(document);
+                if (promise.find()) {
+                    due.add(Integer.parseInt(promise.group(1)));
+                }
+            }
+            Set<Integer> told = new TreeSet<>();
+            for (String range : row.group(2).split(", ")) {
+                String[] ends = range.split(" to ");
+                for (int n = Integer.parseInt(ends[0]); n <= Integer.parseInt(ends[ends.length - 1]); n++) {
+                    told.add(n);
+                }
+            }
+            if (!told.equals(due)) {
+                tell("the promises of " + row.group(1) + " are " + due + ", not " + told);
+            }
+        }
+    }
+
     /** Every file and class that the page tells a reader to run or to look at is there. */
     private static void paths(String readme) {
         Matcher path = Pattern.compile("(?:\\.\\./shared|\\.ci|src)/[\\w./]*\\w").matcher(readme);
@@ -156,6 +182,7 @@ public final class ReadmeTest {
         String readme = Files.readString(Path.of("README.md"));
         java(readme);
         tables(readme);
+        promises(readme, Files.readString(Path.of("../shared/DOC.md")));
         paths(readme);
         System.out.println("ReadmeTest: " + (wrong == 0 ? "the page is as the class is" : wrong + " wrong"));
         if (wrong != 0) {

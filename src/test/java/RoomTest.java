@@ -80,15 +80,18 @@ public final class RoomTest {
     private static void callAll(ThroughTheChain x) {
         feed(x, "one 0 0 8 9 0;one 0 3 6 7 2;one 0 3 5 6 1;one 1 4 9 14 3;one 1 5 8 8 0;spread 4;bell 99;run 3 0 1");
         feed(x, "oops");
-        seen += x.again() + x.one(1, 1, 7, 9, 4) + x.one(1, 2, 12, 5, 0) + x.one(2, 0, 0, 0, 0) + x.tell(0, 2, 3) + x.ask(0, 12) + x.wipe();
-        seen += x.image() + x.row(0, 2, 40) + x.set(0, 0, 3001) + x.row(1, 2, 9) + x.copy(0, 1, 0, 1, 3) + x.element(1, 1) + x.holds(0);
-        seen += x.show(2, 1) + x.says(2, 3) + x.oneOf(1, 7) + x.chainOf(1, 0) + x.strength(1, 0) + x.weakest(1) + x.strongest(1);
+        seen += x.again() + x.one(1, 1, 7, 9, 4) + x.one(1, 2, 12, 5, 0) + x.one(2, 0, 0, 0, 0) + x.tell(0, 2, 3);
+        seen += x.ask(0, 12) + x.wipe() + x.image() + x.row(0, 2, 40) + x.set(0, 0, 3001) + x.row(1, 2, 9);
+        seen += x.element(1, 1) + x.holds(0) + x.show(2, 1) + x.says(2, 3) + x.oneOf(1, 7) + x.chainOf(1, 0) + x.strength(1, 0);
+        seen += x.weakest(1) + x.strongest(1) + x.copy(0, 1, 0, 1, 3);
         for (int c = 0; c < 3; c++) {
-            seen += x.hardest(c) + x.play(c, 1) + x.leads(c) + x.stand(c, 0) + x.worth(c) + x.game(c) + x.first(c) + x.together(c)
-                + x.swap(c, 1) + x.could(c, 0) + x.odds(c, 0) + x.at(c) + x.take(c) + x.spreadFor(c, 0) + x.yardsFor(c, 0);
+            seen += x.hardest(c) + x.play(c, 1) + x.leads(c) + x.stand(c, 0) + x.worth(c) + x.game(c) + x.first(c)
+                + x.together(c) + x.swap(c, 1) + x.could(c, 0) + x.odds(c, 0)
+                + x.at(c) + x.take(c) + x.spreadFor(c, 0) + x.yardsFor(c, 0);
         }
         seen += x.call() + x.won() + x.over() + x.pair() + x.tiredest() + x.move(0, 1) + x.judge(0, 1) + x.behind(0, 1, 0);
-        seen += x.booked(0, 1) + x.order(0, 0) + x.best(1) + x.run(0, 0, 0) + x.runs(40) + x.rest(2) + x.seed(5) + x.back() + x.status(7);
+        seen += x.booked(0, 1) + x.order(0, 0) + x.best(1) + x.run(0, 0, 0) + x.runs(40) + x.rest(2) + x.seed(5) + x.back();
+        seen += x.status(7);
     }
 
     private static void callsMakeNothing() throws IllegalAccessException {
@@ -120,8 +123,8 @@ public final class RoomTest {
             tell("an object takes too much room");
         }
         callsMakeNothing();
-        System.out.println("RoomTest: an object is " + all.size() + " objects and arrays with " + elements + " fields and elements, "
-            + wrong + " wrong");
+        System.out.println("RoomTest: an object is " + all.size() + " objects and arrays with " + elements
+            + " fields and elements, " + wrong + " wrong");
         if (wrong != 0) {
             System.exit(1);
         }

@@ -18,7 +18,8 @@ final class RunWalk {
     private static void hold(Walk w) {
         w.says("HOLD of one, beside another: GRIP less TIRED (0 at least);", t -> t
             .upon("one(0, 0, 9, 20, 7) one(0, 0, 8, 20, 7) ").same("strength(0, 0) = 15")
-            .due("tell(0, 2, 4) = 0 strength(0, 0) = 11 tell(1, 2, 3) = 0 strength(0, 0) = 8 tell(0, 2, 20) = 4 strength(0, 0) = 3"));
+            .due("tell(0, 2, 4) = 0 strength(0, 0) = 11 tell(1, 2, 3) = 0 strength(0, 0) = 8 tell(0, 2, 20) = 4 "
+            + "strength(0, 0) = 3"));
         w.says("FIRM (SISTER): a more;", t -> t.upon("one(0, 1, 9, 20, 7) one(0, 3, 6, 20, 2) show(0, 0) show(1, 1) ")
             .same("says(0, 1) = 16 says(1, 1) = 8 strength(0, 0) = 22")
             .due("tell(0, 2, 20) = 0 says(0, 1) = 7"));
@@ -29,7 +30,8 @@ final class RunWalk {
             .same("strength(0, 0) = 22 strength(0, 1) = 10 pair() = 1"));
         w.says("HEAVY: a quarter of WEIGHT more (cut).", t -> t.upon("one(0, 4, 9, 15, 9) one(0, 0, 0, 15, 9) ")
             .same("strength(0, 0) = 10")
-            .due("tell(0, 1, 16) = 15 strength(0, 0) = 11 tell(0, 1, 3) = 16 strength(0, 0) = 7 tell(0, 2, 20) = 0 tell(0, 1, 20) = 3 "
+            .due("tell(0, 1, 16) = 15 strength(0, 0) = 11 tell(0, 1, 3) = 16 strength(0, 0) = 7 tell(0, 2, 20) = 0 "
+            + "tell(0, 1, 20) = 3 "
                 + "strength(0, 0) = 3"));
     }
 
@@ -55,7 +57,8 @@ final class RunWalk {
         w.says("HEAVY: a more;", t -> t.upon(each).same("oneOf(4, 7) = 17"));
         w.says("SLY: 2 more.", t -> t.upon(each).same("oneOf(5, 7) = 14"));
         // STRENGTH 10; the FORCE of 2 is its WEIGHT.
-        w.says("ODDS of a run at a JOINT: of the SPREAD numbers 0 to SPREAD less 1 those by which FORCE and the number are above "
+        w.says("ODDS of a run at a JOINT: of the SPREAD numbers 0 to SPREAD less 1 those by which FORCE and the number are "
+            + "above "
             + "STRENGTH: 1,000,000 times how many, by SPREAD (cut).", t -> t
             .upon(TapeEdges.wall(10, 4)).same("odds(2, 0) = 750000")
             .upon(TapeEdges.wall(7, 4)).same("odds(2, 0) = 0")
@@ -68,14 +71,17 @@ final class RunWalk {
     private static void run(Walk w) {
         w.says("A RUN: the CHAIN whose TURN it is calls one of the other CHAIN, who runs at a JOINT of it.", t -> t.upon(SIX)
             .due("run(5, 1, 0) = 0 line(0) = 10152 line(1) = 134").refused("run(0, 0, 0) = -5 run(5, 2, 0) = -2")
-            .upon(SIX + "ask(4, 1) ").due("run(0, 0, 0) = 0 line(1) = 13045 line(0) = 112").refused("run(5, 0, 0) = -5 run(0, 2, 0) = -2"));
+            .upon(SIX + "ask(4, 1) ").due("run(0, 0, 0) = 0 line(1) = 13045 line(0) = 112")
+            .refused("run(5, 0, 0) = -5 run(0, 2, 0) = -2"));
         w.says("Both of that JOINT are 1 more TIRED then (20 at most), by either end.", t -> t.upon(SIX)
             .due("run(5, 1, 0) = 0 oneOf(1, 3) = 1 oneOf(2, 3) = 1 status(7) = 2")
             .due("run(3, 0, 1) = 1 oneOf(0, 3) = 1 oneOf(1, 3) = 1 status(7) = 2")
-            .upon(SIX + "tell(0, 2, 20) tell(1, 2, 19) ").due("run(3, 0, 0) = 1 oneOf(0, 3) = 20 oneOf(1, 3) = 20 status(7) = 40"));
+            .upon(SIX + "tell(0, 2, 20) tell(1, 2, 19) ")
+            .due("run(3, 0, 0) = 1 oneOf(0, 3) = 20 oneOf(1, 3) = 20 status(7) = 40"));
         w.says("HELD: the runner comes between them.", t -> t.upon(SIX).due("run(4, 0, 1) = 0 line(0) = 10412 line(1) = 135")
             .upon(POWERS).due("run(6, 3, 0) = 0 line(0) = 1012364 line(1) = 15"));
-        w.says("TORN: the runner goes to the end of the own CHAIN, and one of the two (side 0 the left, at PLACE j; 1 the right) "
+        w.says("TORN: the runner goes to the end of the own CHAIN, and one of the two (side 0 the left, at PLACE j; 1 the "
+            + "right) "
             + "comes behind.", t -> t.upon(SIX).due("run(3, 0, 0) = 1 line(0) = 112 line(1) = 14530")
             .due("run(3, 0, 1) = 1 line(0) = 102 line(1) = 14531")
             .upon(POWERS + "tell(5, 1, 20) ").due("run(5, 2, 0) = 1 line(0) = 10134 line(1) = 1652")

@@ -41,8 +41,10 @@ final class ShelfWalk {
         w.says("n elements of the ROW in SHELF p from place i on come to places j on of that in q (as they were): n.", t -> t
             .upon(SHELVES)
             .due("copy(0, 1, 3, 1, 2) = 2 element(1, 0) = 7 element(1, 1) = 4 element(1, 2) = 5 element(0, 3) = 4")
-            .due("copy(0, 0, 0, 1, 4) = 4 element(0, 0) = 1 element(0, 1) = 1 element(0, 2) = 2 element(0, 3) = 3 element(0, 4) = 4")
-            .due("copy(0, 0, 1, 0, 4) = 4 element(0, 0) = 2 element(0, 1) = 3 element(0, 2) = 4 element(0, 3) = 5 element(0, 4) = 5")
+            .due("copy(0, 0, 0, 1, 4) = 4 element(0, 0) = 1 element(0, 1) = 1 element(0, 2) = 2 element(0, 3) = 3 "
+            + "element(0, 4) = 4")
+            .due("copy(0, 0, 1, 0, 4) = 4 element(0, 0) = 2 element(0, 1) = 3 element(0, 2) = 4 element(0, 3) = 5 "
+            + "element(0, 4) = 5")
             .due("copy(0, 1, 0, 0, 3) = 3 element(1, 0) = 1 element(1, 1) = 2 element(1, 2) = 3")
             .same("copy(0, 1, 0, 0, 0) = 0"));
         w.says("BAD SHELVES;", t -> t.upon(SHELVES)
@@ -50,7 +52,8 @@ final class ShelfWalk {
         w.says("OTHER (also ROWS of two SORTS, if both hold something);", t -> t.upon(SHELVES)
             .refused("copy(3, 0, 0, 0, 1) = -3 copy(0, 3, 0, 0, 1) = -3 copy(3, 4, 0, 0, 1) = -3 copy(4, 3, 0, 0, 1) = -3")
             .refused("copy(0, 2, 0, 0, 1) = -3 copy(2, 0, 9, 0, 1) = -3"));
-        w.says("NOTHING;", t -> t.upon(SHELVES).refused("copy(4, 0, 0, 0, 1) = -4 copy(0, 4, 0, 0, 1) = -4 copy(4, 4, -1, 0, 1) = -4"));
+        w.says("NOTHING;", t -> t.upon(SHELVES)
+            .refused("copy(4, 0, 0, 0, 1) = -4 copy(0, 4, 0, 0, 1) = -4 copy(4, 4, -1, 0, 1) = -4"));
         w.says("BAD the others.", t -> t.upon(SHELVES)
             .refused("copy(0, 1, -1, 0, 1) = -2 copy(0, 1, 0, -1, 1) = -2 copy(0, 1, 0, 0, -1) = -2")
             .refused("copy(0, 1, 5, 0, 1) = -2 copy(0, 1, 0, 3, 1) = -2 copy(0, 1, 0, 0, 4) = -2 copy(1, 0, 0, 0, 4) = -2"));
@@ -61,27 +64,33 @@ final class ShelfWalk {
         w.says("Element i of the ROW;", t -> t.upon(SHELVES + "fill 7 3: 4 9000000000 ")
             .same("element(0, 0) = 1 element(0, 4) = 5 element(1, 1) = 8 element(7, 1) = 9000000000"));
         w.says("0: none, no ROW (nothing is refused).", t -> t.upon(SHELVES)
-            .same("element(0, 5) = 0 element(0, -1) = 0 element(3, 0) = 0 element(4, 0) = 0 element(8, 0) = 0 element(-1, 0) = 0"));
+            .same("element(0, 5) = 0 element(0, -1) = 0 element(3, 0) = 0 element(4, 0) = 0 element(8, 0) = 0 "
+            + "element(-1, 0) = 0"));
         w.promise(6, "int holds(int s)");
         w.says("What SHELF s holds: NONE NOTHING, no SHELF; 0 to 4 a ROW by its SORT; 10 and the number of somebody.", t -> t
             .upon(SHELVES + "row(4, 0, 0) row(5, 1, 0) row(6, 4, 0) ")
-            .same("holds(7) = -1 holds(8) = -1 holds(-1) = -1 holds(4) = 0 holds(5) = 1 holds(0) = 2 holds(2) = 3 holds(6) = 4 holds(3) = 14"));
+            .same("holds(7) = -1 holds(8) = -1 holds(-1) = -1 holds(4) = 0 holds(5) = 1 holds(0) = 2 holds(2) = 3 "
+            + "holds(6) = 4 holds(3) = 14"));
         w.promise(7, "int show(int s, int one)");
         w.says("SHELF s holds somebody, or NOTHING (one NONE): 1.", t -> t.upon(SHELVES)
-            .due("show(0, 5) = 1 holds(0) = 15 element(0, 0) = 0 show(0, NONE) = 1 holds(0) = -1 show(3, NONE) = 1 status(10) = 2"));
-        w.says("BAD.", t -> t.upon(SHELVES).refused("show(-1, 0) = -2 show(8, 0) = -2 show(8, NONE) = -2 show(0, 6) = -2 show(0, -2) = -2"));
+            .due("show(0, 5) = 1 holds(0) = 15 element(0, 0) = 0 show(0, NONE) = 1 holds(0) = -1 show(3, NONE) = 1 "
+            + "status(10) = 2"));
+        w.says("BAD.", t -> t.upon(SHELVES)
+            .refused("show(-1, 0) = -2 show(8, 0) = -2 show(8, NONE) = -2 show(0, 6) = -2 show(0, -2) = -2"));
         w.promise(8, "int says(int s, int kind)");
         String each = SIX + "show(0, 0) show(1, 1) show(3, 3) show(4, 4) ";
         w.says("What the one in SHELF s, taken for one of a KIND, says: HAND the CHAIN;", t -> t.upon(each)
             .same("says(0, 0) = 0 says(1, 0) = 0 says(3, 0) = 1 says(4, 0) = 1"));
         w.says("FIRM the HOLD beside nobody;", t -> t.upon(each).same("says(1, 1) = 8")
-            .upon("one(0, 3, 4, 0, 1) one(0, 3, 6, 0, 2) one(0, 1, 3, 0, 9) show(1, 1) show(2, 2) ").same("says(1, 1) = 8 says(2, 1) = 12"));
+            .upon("one(0, 3, 4, 0, 1) one(0, 3, 6, 0, 2) one(0, 1, 3, 0, 9) show(1, 1) show(2, 2) ")
+            .same("says(1, 1) = 8 says(2, 1) = 12"));
         w.says("WEAK the HOLD beside nobody;", t -> t.upon(each).same("says(4, 2) = 4")
             .upon("one(0, 2, 9, 0, 9) show(2, 0) ").same("says(2, 2) = 4"));
         w.says("SISTER how many other SISTERS are in the same CHAIN;", t -> t.upon(each).same("says(1, 3) = 1")
             .upon(each + "one(1, 3, 5, 5, 5) one(0, 3, 5, 5, 5) show(6, 6) ").same("says(1, 3) = 2 says(6, 3) = 0"));
         w.says("HEAVY, SLY the FORCE.", t -> t.upon(each).same("says(3, 4) = 20 says(4, 5) = 13"));
-        w.says("BAD SHELF, KIND;", t -> t.upon(each).refused("says(8, 0) = -2 says(-1, 0) = -2 says(0, 6) = -2 says(2, -1) = -2"));
+        w.says("BAD SHELF, KIND;", t -> t.upon(each)
+            .refused("says(8, 0) = -2 says(-1, 0) = -2 says(0, 6) = -2 says(2, -1) = -2"));
         w.says("OTHER (also if they're of no such KIND nor of one under it);", t -> t.upon(each + "row(2, 0, 1) ")
             .refused("says(2, 0) = -3 says(0, 1) = -3 says(1, 2) = -3 says(3, 5) = -3 says(4, 1) = -3"));
         w.says("NOTHING.", t -> t.upon(each).refused("says(2, 0) = -4 says(2, 5) = -4"));
@@ -89,13 +98,15 @@ final class ShelfWalk {
 
     private static void people(Walk w) {
         w.promise(9, "int one(int chain, int kind, int grip, int weight, int a)");
-        w.says("Somebody in a CHAIN: the number.", t -> t.bare().upon(FIVE + "image() one(0, 0, 5, 5, 0) tell(5, 2, 7) back() ")
-            .due("one(0, 0, 6, 6, 0) = 5 oneOf(5, 3) = 0")
+        w.says("Somebody in a CHAIN: the number.", t -> t.bare()
+            .upon(FIVE + "image() one(0, 0, 5, 5, 0) tell(5, 2, 7) back() ").due("one(0, 0, 6, 6, 0) = 5 oneOf(5, 3) = 0")
             .upon(FIVE)
-            .due("one(1, 2, 11, 12, 7) = 5 status(0) = 6 line(1) = 1345 oneOf(5, 0) = 2 oneOf(5, 1) = 11 oneOf(5, 2) = 12 oneOf(5, 4) = 7"));
+            .due("one(1, 2, 11, 12, 7) = 5 status(0) = 6 line(1) = 1345 oneOf(5, 0) = 2 oneOf(5, 1) = 11 oneOf(5, 2) = 12 "
+            + "oneOf(5, 4) = 7"));
         w.says("BAD;", t -> t.upon(FIVE).refused("one(2, 0, 5, 5, 0) = -2 one(0, 6, 5, 5, 0) = -2 one(0, 0, 21, 5, 0) = -2 "
             + "one(0, 0, 5, 21, 0) = -2 one(0, 0, 5, 5, 10) = -2")
-            .refused("one(-1, 0, 5, 5, 0) = -2 one(0, -1, 5, 5, 0) = -2 one(0, 0, -1, 5, 0) = -2 one(0, 0, 5, -1, 0) = -2 one(0, 0, 5, 5, -1) = -2"));
+            .refused("one(-1, 0, 5, 5, 0) = -2 one(0, -1, 5, 5, 0) = -2 one(0, 0, -1, 5, 0) = -2 one(0, 0, 5, -1, 0) = -2 "
+            + "one(0, 0, 5, 5, -1) = -2"));
         w.says("FULL.", t -> t.upon(YardEdges.crowd(3, 5)).refused("one(0, 0, 5, 5, 0) = -6 one(2, 0, 5, 5, 0) = -2"));
         w.promise(10, "int tell(int one, int what, int v)");
         w.says("GRIP (what 0), WEIGHT (1), TIRED (2) of one becomes v: what it was.", t -> t.upon(SIX)
@@ -105,7 +116,8 @@ final class ShelfWalk {
             + "tell(3, 0, 21) = -2 tell(3, 0, -1) = -2"));
         w.promise(11, "int ask(int what, int v)");
         w.says("YARDS (what 0), SPREAD (1), WRISTS (2), BELL (3), TURN (4; 0, 1) becomes v: what it was.", t -> t.upon(SIX)
-            .due("ask(0, 12) = 9 ask(1, 4) = 1 ask(2, 1) = 0 ask(3, 33) = 20 ask(4, 1) = 0 status(3) = 12 status(4) = 4 status(5) = 1 "
+            .due("ask(0, 12) = 9 ask(1, 4) = 1 ask(2, 1) = 0 ask(3, 33) = 20 ask(4, 1) = 0 status(3) = 12 status(4) = 4 "
+            + "status(5) = 1 "
                 + "status(6) = 33 status(2) = 1 ask(0, 1) = 12 ask(4, 0) = 1"));
         w.says("BAD.", t -> t.upon(SIX).refused("ask(-1, 1) = -2 ask(5, 1) = -2 ask(0, 31) = -2 ask(1, 0) = -2 ask(2, 2) = -2 "
             + "ask(3, 100) = -2 ask(4, 2) = -2 ask(4, -1) = -2"));
@@ -123,7 +135,8 @@ final class ShelfWalk {
         w.promise(14, "int yard()");
         w.says("THE TAPE is a YARD: how many STATEMENTS;", t -> t.upon(SIX)
             .due("read 'bell 7' = 1 read 'yards 3;spread 2;tired 0 4;one 0 0 1 1 1' = 4 status(0) = 7"));
-        w.says("-20 less the FAULT (that is refused, too: BAD).", t -> t.upon(SIX + "feed 'bell 7;oops' ").refused("yard() = -27")
+        w.says("-20 less the FAULT (that is refused, too: BAD).", t -> t.upon(SIX + "feed 'bell 7;oops' ")
+            .refused("yard() = -27")
             .upon("feed '" + "bell 7;".repeat(35) + " ' ").refused("yard() = -266"));
         w.says("THE TAPE is empty then, either way.", t -> t.upon(SIX).due("read 'bell 7' = 1 status(8) = 0 wipe() = 0")
             .upon(SIX + "feed 'oops' yard() ").due("status(8) = 0 read 'bell 7' = 1"));
@@ -133,12 +146,15 @@ final class ShelfWalk {
         w.promise(15, "int oneOf(int one, int what)");
         w.says("Of one: KIND (0), GRIP (1), WEIGHT (2), TIRED (3), a (4), CHAIN (5), PLACE (6), FORCE (7).", t -> t
             .upon(SIX + "tell(4, 2, 7) ")
-            .same("oneOf(4, 0) = 5 oneOf(4, 1) = 8 oneOf(4, 2) = 8 oneOf(4, 3) = 7 oneOf(4, 4) = 0 oneOf(4, 5) = 1 oneOf(4, 6) = 1 oneOf(4, 7) = 13")
+            .same("oneOf(4, 0) = 5 oneOf(4, 1) = 8 oneOf(4, 2) = 8 oneOf(4, 3) = 7 oneOf(4, 4) = 0 oneOf(4, 5) = 1 "
+            + "oneOf(4, 6) = 1 oneOf(4, 7) = 13")
             .same("oneOf(1, 0) = 3 oneOf(1, 1) = 6 oneOf(1, 2) = 7 oneOf(1, 4) = 2 oneOf(1, 5) = 0 oneOf(1, 7) = 10"));
         w.says("BAD.", t -> t.upon(SIX).refused("oneOf(6, 0) = -2 oneOf(-1, 0) = -2 oneOf(0, 8) = -2 oneOf(0, -1) = -2"));
         w.promise(16, "int chainOf(int chain, int place)");
         w.says("Who is at a PLACE of a CHAIN; how many there are (place NONE).", t -> t.upon(FIVE + "move(0, 2) ")
-            .same("chainOf(0, 0) = 1 chainOf(0, 1) = 2 chainOf(0, 2) = 0 chainOf(0, NONE) = 3 chainOf(1, 1) = 4 chainOf(1, NONE) = 2"));
-        w.says("BAD.", t -> t.upon(FIVE).refused("chainOf(2, 0) = -2 chainOf(-1, NONE) = -2 chainOf(0, 3) = -2 chainOf(1, 2) = -2 chainOf(0, -2) = -2"));
+            .same("chainOf(0, 0) = 1 chainOf(0, 1) = 2 chainOf(0, 2) = 0 chainOf(0, NONE) = 3 chainOf(1, 1) = 4 "
+            + "chainOf(1, NONE) = 2"));
+        w.says("BAD.", t -> t.upon(FIVE)
+            .refused("chainOf(2, 0) = -2 chainOf(-1, NONE) = -2 chainOf(0, 3) = -2 chainOf(1, 2) = -2 chainOf(0, -2) = -2"));
     }
 }

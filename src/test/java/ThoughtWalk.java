@@ -31,8 +31,10 @@ final class ThoughtWalk {
     private static void nothingIsChanged(Walk w) {
         w.says("==== 3. WHAT COMES OF IT (in thought; nothing is changed)", t -> t
             .upon(SIX + "ask(1, 10) ask(3, 99) fill 0 2: 3001 ")
-            .same("at(3) take(0) call() play(0, 0) play(1, 1) leads(0) leads(1) stand(0, 1) worth(1) game(1) game(2) first(1) first(2)")
-            .same("together(0) swap(0, 0) swap(0, 1) could(0, 0) could(0, 1) judge(0, 1) behind(0, 1, 0) behind(0, 1, 1) behind(0, 1, 2)"));
+            .same("at(3) take(0) call() play(0, 0) play(1, 1) leads(0) leads(1) stand(0, 1) worth(1) game(1) game(2) first(1) "
+            + "first(2)")
+            .same("together(0) swap(0, 0) swap(0, 1) could(0, 0) could(0, 1) judge(0, 1) behind(0, 1, 0) behind(0, 1, 1) "
+            + "behind(0, 1, 2)"));
     }
 
     private static void choices(Walk w) {
@@ -59,31 +61,37 @@ final class ThoughtWalk {
     private static void plays(Walk w) {
         // 2 is lighter than 3, but HEAVY: FORCE 14 and 8 against 10.
         String light = "ask(0, 0) one(0, 0, 6, 0, 0) one(0, 0, 6, 0, 0) one(1, 4, 0, 5, 9) one(1, 0, 0, 8, 0) ";
-        w.says("A PLAY by rules (0: CALL; 1: the one of the least WEIGHT is called, of several the first by numbers) to its end:", t -> t
+        w.says("A PLAY by rules (0: CALL; 1: the one of the least WEIGHT is called, of several the first by numbers) to its "
+            + "end:", t -> t
             .upon(light).same("play(0, 0) = 0 play(0, 1) = 1 play(0, 2) = 3 play(1, 0) = 1 play(1, 1) = 1 play(1, 2) = 1")
             .upon(light + "tell(3, 1, 5) move(3, 0) ").same("play(1, 0) = 1 play(1, 2) = 1")
             .upon(ChoiceEdges.STRONG).same("play(0, 1) = 20 play(0, 2) = 3 play(1, 1) = 20")
             .upon(ChoiceEdges.STRONG + "run(3, 0, 0) ").same("play(0, 1) = 19 play(0, 2) = 3"));
         // 3 takes the one of GRIP 8 home, whom FORCE 7 can't be torn from then; of GRIP 3 it could.
-        String taken = "ask(0, 0) one(0, 0, %d, 7, 0) one(0, 0, %d, 7, 0) one(0, 0, 9, 7, 0) one(1, 0, 5, 10, 0) one(1, 0, 5, 10, 0) ";
+        String taken = "ask(0, 0) one(0, 0, %d, 7, 0) one(0, 0, %d, 7, 0) one(0, 0, 9, 7, 0) one(1, 0, 5, 10, 0) "
+            + "one(1, 0, 5, 10, 0) ";
         // STRENGTH 12 and 10; 3 runs at the second, is HELD by FORCE 10 and tears by 11.
         w.says("each runs AT, it is TORN if ODDS are 500,000 at least, and TAKES.", t -> t
             .upon(sides("6 6", "10 10") + "ask(1, 2) ").same("play(0, 0) = 1 play(0, 2) = 1")
             .upon(sides("6 6", "9 9") + "ask(1, 3) ").same("play(0, 0) = 0 play(0, 2) = 3")
             .upon(sides("8 6 6", "10 10") + "ask(3, 1) ").same("play(0, 2) = 4")
             .upon(sides("8 6 6", "11 11") + "ask(3, 1) ").same("play(0, 2) = 2")
+            // STRENGTH 8 and 2: FORCE 5 runs at the second, FORCE 20 would at the first.
+            .upon(sides("9 1 3", "5 20") + "ask(3, 1) ").same("play(0, 2) = 2 play(1, 2) = 2")
             .upon(String.format(taken, 3, 8)).same("play(0, 1) = 2 play(0, 2) = 1 play(0, 0) = 1")
             .upon(String.format(taken, 8, 3)).same("play(0, 1) = 2 play(0, 2) = 1 play(0, 0) = 1"));
     }
 
     private static void stands(Walk w) {
         // Of GRIPS 1, 5, 9: 9 belongs between; of 1, 5, 9, 3 none is above 6, by 1 9 5 3 first.
-        w.says("STAND of a CHAIN (7 at most): of all orders of its PEOPLE that by which its least STRENGTH is greatest (fewer than "
+        w.says("STAND of a CHAIN (7 at most): of all orders of its PEOPLE that by which its least STRENGTH is greatest (fewer "
+            + "than "
             + "2: as they are), of several the first (by rows of numbers).", t -> t
             .upon(sides("1 5 9", "0")).same("stand(0, NONE) = 8 stand(0, 0) = 0 stand(0, 1) = 2 stand(0, 2) = 1")
             .same("stand(1, NONE) = 0 stand(1, 0) = 3")
             .upon(sides("1 5 9", "0") + "move(0, 2) move(1, 1) ").same("stand(0, 0) = 0 stand(0, 1) = 2 stand(0, 2) = 1")
-            .upon(sides("1 5 9 3", "0")).same("stand(0, NONE) = 6 stand(0, 0) = 0 stand(0, 1) = 2 stand(0, 2) = 1 stand(0, 3) = 3")
+            .upon(sides("1 5 9 3", "0"))
+            .same("stand(0, NONE) = 6 stand(0, 0) = 0 stand(0, 1) = 2 stand(0, 2) = 1 stand(0, 3) = 3")
             .due("stand(0, NONE) = 6 stand(1, NONE) = 0 stand(0, NONE) = 6")
             .upon(YardEdges.SIX).same("stand(1, NONE) = 10 stand(1, 0) = 4 stand(1, 1) = 3 stand(1, 2) = 5")
             .upon(YardEdges.crowd(7, 0) + "move(6, 0) ").same("stand(0, NONE) = 8 stand(0, 0) = 0 stand(0, 6) = 6")
@@ -98,12 +106,14 @@ final class ThoughtWalk {
         w.says("the CHAIN whose TURN it is calls so that what it has in the end more than the other (PEOPLE) is most,", t -> t
             .upon(sides("6 6", "14 8 14")).same("game(1) = 1 first(1) = 3 game(2) = -1 first(2) = 3"));
         // All that is left with 1 can be called to be HELD; without 1 FORCE 20 tears.
-        String side = "ask(0, 0) one(0, 0, 0, 20, 0) one(0, 0, 0, 0, 0) one(0, 0, 20, 20, 0) one(1, 0, 0, 5, 0) one(1, 0, 0, 5, 0) ";
+        String side = "ask(0, 0) one(0, 0, 0, 20, 0) one(0, 0, 0, 0, 0) one(0, 0, 20, 20, 0) one(1, 0, 0, 5, 0) "
+            + "one(1, 0, 0, 5, 0) ";
         w.says("the runner's CHAIN chooses JOINT and side so that it is least;", t -> t
             .upon(sides("6 6 1", "8 8")).same("game(1) = -1")
             .upon(side).same("game(1) = -1 game(2) = -3")
             .upon(side + "move(1, 0) ").same("game(1) = -1 game(2) = -3"));
-        w.says("that difference (it may be below 0);", t -> t.upon(sides("6 6", "14 14 14")).same("game(0) = -1 game(1) = -3 game(2) = -3")
+        w.says("that difference (it may be below 0);", t -> t.upon(sides("6 6", "14 14 14"))
+            .same("game(0) = -1 game(1) = -3 game(2) = -3")
             .upon(sides("6 6", "14 14 14") + "ask(4, 1) ").same("game(0) = 1"));
         w.says("the one called first, of several the first by numbers.", t -> t
             .upon(sides("6 6", "14 14 14")).same("first(1) = 2 first(2) = 2")
@@ -119,7 +129,8 @@ final class ThoughtWalk {
             .upon("one(0, 3, 5, 5, 0) ".repeat(2) + YardEdges.crowd(5, 0)).same("together(0) = 1440")
             .upon("one(1, 3, 5, 5, 0) ".repeat(7)).same("together(1) = 5040")
             .upon("one(1, 3, 5, 5, 0) ".repeat(8)).refused("together(1) = -6"));
-        w.says("SWAP of a CHAIN: of all pairs of PLACES side by side the one by whose change its least STRENGTH would be greatest, "
+        w.says("SWAP of a CHAIN: of all pairs of PLACES side by side the one by whose change its least STRENGTH would be "
+            + "greatest, "
             + "of several the first; by how much more that is (it may be below 0).", t -> t
             .upon(sides("1 5 9 3", "0")).same("swap(0, 0) = 1 swap(0, 1) = 2")
             .upon(sides("1 9 5 3", "0")).same("swap(0, 0) = 0 swap(0, 1) = 0")
@@ -127,11 +138,13 @@ final class ThoughtWalk {
             .upon(SIX).same("swap(1, 0) = 0 swap(1, 1) = 8"));
         w.says("COULD at a JOINT: who of the CHAIN that is called can tear it (ODDS above 0; bits);", t -> t
             .upon(sides("6 6 9", "7 8 11 10") + "ask(1, 4) ").same("could(0, 0) = 112 could(1, 0) = 32"));
-        w.says("MUST: who does for sure.", t -> t.upon(sides("6 6 9", "7 8 11 10") + "ask(1, 4) ").same("could(0, 1) = 32 could(1, 1) = 0"));
+        w.says("MUST: who does for sure.", t -> t.upon(sides("6 6 9", "7 8 11 10") + "ask(1, 4) ")
+            .same("could(0, 1) = 32 could(1, 1) = 0"));
     }
 
     private static void books(Walk w) {
-        w.says("A BOOK: a ROW of RUNS: each 1000 times the runner, 100 times the JOINT, and 0: HELD, 1: TORN, left, 2: TORN, right:",
+        w.says("A BOOK: a ROW of RUNS: each 1000 times the runner, 100 times the JOINT, and 0: HELD, 1: TORN, left, 2: "
+            + "TORN, right:",
             t -> t.upon(SIX + "fill 0 2: 5100 ").due("booked(0, 1) = 1 line(0) = 10152 line(1) = 134")
             .upon(SIX + "fill 0 2: 3001 ").due("booked(0, 1) = 1 line(0) = 112 line(1) = 14530")
             .upon(SIX + "fill 0 2: 3002 ").due("booked(0, 1) = 1 line(0) = 102 line(1) = 14531"));
@@ -166,8 +179,10 @@ final class ThoughtWalk {
             .upon(SIX).due("row(0, 2, 3) = 1 show(7, 5) = 1 holds(0) = 2 holds(7) = 15 holds(3) = -1 status(10) = 2")
             .due("row(0, 2, 3) = 1 show(0, 1) = 1 holds(0) = 11 row(0, 1, 3) = 1 holds(0) = 1")
             .refused("row(8, 2, 3) = -2 row(-1, 2, 3) = -2 show(8, 0) = -2"));
-        w.says("A ROW has a SORT (0 bytes, 1 shorts, 2 ints, 3 longs, 4 booleans) and 0 to 40 elements (0, or not so, at first);", t -> t
-            .due("row(0, 0, 0) = 1 holds(0) = 0 row(0, 4, 40) = 1 holds(0) = 4 element(0, 39) = 0 set(0, 39, 7) = 1 element(0, 39) = 1 "
+        w.says("A ROW has a SORT (0 bytes, 1 shorts, 2 ints, 3 longs, 4 booleans) and 0 to 40 elements (0, or not so, at "
+            + "first);", t -> t
+            .due("row(0, 0, 0) = 1 holds(0) = 0 row(0, 4, 40) = 1 holds(0) = 4 element(0, 39) = 0 set(0, 39, 7) = 1 "
+            + "element(0, 39) = 1 "
                 + "row(0, 3, 40) = 1 element(0, 39) = 0")
             .refused("row(0, 5, 1) = -2 row(0, -1, 1) = -2 row(0, 0, 41) = -2 row(0, 0, -1) = -2"));
         w.says("what is put in keeps its lowest bits (of booleans: whether it is not 0);", t -> t
@@ -181,10 +196,12 @@ final class ThoughtWalk {
         String shelved = SIX + "fill 0 2: 7 8 9 show(1, 4) ";
         w.says("REFUSALS (the call answers the number; nothing changes but how many there were;", t -> t.upon(shelved)
             .refused("tell(6, 0, 1) = -2 set(1, 0, 1) = -3 set(2, 0, 1) = -4 run(0, 0, 0) = -5")
-            .due("status(12) = 0 status(15) = 0").upon(shelved + "run(0, 0, 0) run(0, 0, 0) tell(6, 0, 1) ")
+            .due("status(12) = 0 status(15) = 0")
+            .upon(shelved + "run(0, 0, 0) run(0, 0, 0) tell(6, 0, 1) ")
             .same("status(12) = 1 status(13) = 0 status(14) = 0 status(15) = 2 status(16) = 0"));
         w.says("the first that fits as each line has them):", t -> t.upon(shelved)
-            .refused("run(0, 9, 0) = -2 run(0, 0, 0) = -5 set(8, 9, 1) = -2 set(1, 9, 1) = -3 set(2, 9, 1) = -4 set(0, 9, 1) = -2")
+            .refused("run(0, 9, 0) = -2 run(0, 0, 0) = -5 set(8, 9, 1) = -2 set(1, 9, 1) = -3 set(2, 9, 1) = -4 "
+            + "set(0, 9, 1) = -2")
             .upon(YardEdges.crowd(8, 0)).refused("one(0, 0, 21, 0, 0) = -2 one(0, 0, 20, 0, 0) = -6"));
         w.says("-2 BAD a number that may not be, nothing of that number.", t -> t.upon(shelved)
             .refused("ask(0, 31) = -2 oneOf(0, 8) = -2 oneOf(6, 0) = -2 strength(0, 2) = -2 row(8, 0, 0) = -2"));
@@ -192,7 +209,8 @@ final class ThoughtWalk {
             .refused("set(1, 0, 1) = -3 judge(1, 0) = -3 says(0, 0) = -3 order(0, 1) = -3"));
         w.says("-4 NOTHING: a SHELF that holds NOTHING.", t -> t.upon(shelved)
             .refused("set(2, 0, 1) = -4 judge(2, 0) = -4 says(2, 0) = -4 order(0, 2) = -4"));
-        w.says("-5 STUCK: it can't be as things stand.", t -> t.refused("call() = -5 weakest(0) = -5 pair() = -5 first(1) = -5"));
+        w.says("-5 STUCK: it can't be as things stand.", t -> t
+            .refused("call() = -5 weakest(0) = -5 pair() = -5 first(1) = -5"));
         w.says("-6 FULL.", t -> t.upon(YardEdges.crowd(0, 8)).refused("one(0, 0, 5, 5, 0) = -6 best(1) = -6"));
         w.says("(Calls that tell what may be below 0 answer -1000 and the number.)", t -> t
             .refused("game(3) = -1002 game(0) = -1005 swap(2, 0) = -1002 swap(0, 0) = -1005"));

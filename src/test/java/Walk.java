@@ -76,7 +76,8 @@ final class Walk {
             due.add(line.replaceAll("(int|long) \\w+([,)])", "$1$2"));
         }
         boolean isFace = lines.startsWith(head) && due.equals(faceOfClass());
-        if (!Edge.held(t -> t.that(isFace, "the class shows " + faceOfClass() + ", due are " + due)).tell(shown(lines), lines)) {
+        if (!Edge.held(t -> t.that(isFace, "the class shows " + faceOfClass() + ", due are "
+            + "" + due)).tell(shown(lines), lines)) {
             failed++;
         }
     }

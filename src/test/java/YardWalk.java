@@ -29,7 +29,8 @@ final class YardWalk {
             .same("stand(0, NONE) = 14 stand(0, 1) = 1 call() = 4 at(3) = 0 take(0) = 0")
             .upon(SIX + "fill 0 2: 3001 ").same("behind(0, 1, 0) = 2 behind(0, 1, 1) = 4"));
         w.says("plays by rules to the end, whoever is light called again and again, the next runs looked ahead as a game, how "
-            + "often sisters stand together, told books judged, who could have torn it, swaps, rests, yards read from texts, runs "
+            + "often sisters stand together, told books judged, who could have torn it, swaps, rests, yards read from "
+                + "texts, runs "
             + "in truth by draws.", t -> t.upon(ChoiceEdges.STRONG).same("play(0, 1) = 20 play(1, 1) = 20")
             .upon(SIX).same("game(0) = 0 together(0) = 4 could(0, 0) = 8 swap(0, 1) = -2")
             .upon(SIX + "fill 0 2: 3000 ").same("judge(0, 1) = 0")
@@ -45,7 +46,8 @@ final class YardWalk {
             .due("one(0, 0, 5, 5, 0) = 0 one(1, 0, 5, 5, 0) = 1 one(1, 0, 5, 5, 0) = 2 one(0, 0, 5, 5, 0) = 3")
             .upon(YardEdges.crowd(4, 3)).due("one(0, 0, 5, 5, 0) = 7 status(0) = 8")
             .upon(YardEdges.crowd(4, 4)).refused("one(0, 0, 5, 5, 0) = -6"));
-        w.says("each of a KIND: 0 HAND; 1 FIRM, 2 WEAK, 4 HEAVY, each under HAND; 3 SISTER, under FIRM; 5 SLY, under WEAK;", t -> {
+        w.says("each of a KIND: 0 HAND; 1 FIRM, 2 WEAK, 4 HEAVY, each under HAND; 3 SISTER, under FIRM; 5 SLY, under "
+            + "WEAK;", t -> {
             // By whom each KIND is taken for: FORCE 12 and 3 more or 2 more, HOLD 8 and 3 more, or half of 8.
             String[] answers = {"0 - - - - -", "0 11 - - - -", "0 - 4 - - -", "1 11 - 0 - -", "1 - - - 15 -", "1 - 4 - - 14"};
             t.upon(KINDS);
@@ -68,7 +70,8 @@ final class YardWalk {
             .refused("one(0, 4, -1, 0, 0) = -2 one(0, 4, 0, -1, 0) = -2 one(0, 4, 0, 0, -1) = -2")
             .upon(FIVE).refused("tell(0, 2, 21) = -2 tell(0, 2, -1) = -2"));
         w.says("Each is in one of two CHAINS (0, 1), at a PLACE (0 on; a new one at its end).", t -> t.upon(FIVE)
-            .same("oneOf(0, 5) = 0 oneOf(2, 5) = 0 oneOf(3, 5) = 1 oneOf(0, 6) = 0 oneOf(2, 6) = 2 oneOf(3, 6) = 0 oneOf(4, 6) = 1")
+            .same("oneOf(0, 5) = 0 oneOf(2, 5) = 0 oneOf(3, 5) = 1 oneOf(0, 6) = 0 oneOf(2, 6) = 2 oneOf(3, 6) = 0 "
+            + "oneOf(4, 6) = 1")
             .due("one(0, 0, 5, 5, 0) = 5 line(0) = 10125 one(1, 0, 5, 5, 0) = 6 line(1) = 1346")
             .refused("one(2, 0, 5, 5, 0) = -2 one(-1, 0, 5, 5, 0) = -2"));
         w.passes("text");
@@ -99,7 +102,8 @@ final class YardWalk {
             .due("read '  yards  12 ;  bell 7 ' = 2 status(3) = 12 status(6) = 7")
             .fault("yards 1 2", 8).fault("yar ds 12", 0).fault("yardsbell 7", 0).fault("yards\t12", 5));
         w.says("STATEMENTS, one or more, with ; between:", t -> t.upon(SIX)
-            .due("read 'yards 3' = 1 status(3) = 3").due("read 'yards 3;bell 7;wrists 1' = 3 status(3) = 3 status(6) = 7 status(5) = 1")
+            .due("read 'yards 3' = 1 status(3) = 3")
+            .due("read 'yards 3;bell 7;wrists 1' = 3 status(3) = 3 status(6) = 7 status(5) = 1")
             .fault("", 0).fault(";yards 3", 0).fault("yards 3;", 8).fault("yards 3;;bell 7", 8).fault("yards 3 bell 7", 8));
     }
 
@@ -112,13 +116,15 @@ final class YardWalk {
         w.says("tired P N;", t -> t.upon(FIVE).due("read 'tired 2 7' = 1 oneOf(2, 3) = 7 status(7) = 7").fault("tired 5 7", 6)
             .fault("tired 2 21", 8));
         w.says("yards N;", t -> t.upon(FIVE).due("read 'yards 29' = 1 status(3) = 29").fault("yards 31", 6));
-        w.says("spread N;", t -> t.upon(FIVE).due("read 'spread 9' = 1 status(4) = 9").fault("spread 0", 7).fault("spread 11", 7));
+        w.says("spread N;", t -> t.upon(FIVE).due("read 'spread 9' = 1 status(4) = 9").fault("spread 0", 7)
+            .fault("spread 11", 7));
         w.says("wrists N;", t -> t.upon(FIVE).due("read 'wrists 1' = 1 status(5) = 1").fault("wrists 2", 7));
         w.says("bell N;", t -> t.upon(FIVE).due("read 'bell 98' = 1 status(6) = 98").fault("bell 0", 5));
     }
 
     private static void runsTold(Walk w) {
-        w.says("run P J S (a RUN in truth of P at JOINT J that is TORN, and takes, by S 0 the left, 1 the right one; if it can be "
+        w.says("run P J S (a RUN in truth of P at JOINT J that is TORN, and takes, by S 0 the left, 1 the right one; if it "
+            + "can be "
             + "TORN by its ODDS)", t -> t.upon(SIX)
             .due("read 'run 3 0 0' = 1 line(0) = 112 line(1) = 14530 status(1) = 1 status(2) = 1 status(7) = 2")
             .due("read 'run 3 0 1' = 1 line(0) = 102 line(1) = 14531 status(1) = 1 status(2) = 1 status(7) = 2")
@@ -129,7 +135,8 @@ final class YardWalk {
             .due("read 'run 4 0' = 1 line(0) = 10412 line(1) = 135 status(1) = 1 status(2) = 1 status(7) = 2")
             .due("read 'spread 3;run 4 0' = 2 line(0) = 10412 line(1) = 135").fault("run 3 0", 7));
         w.says("All comes to what there is, or nothing.", t -> t.upon(SIX)
-            .due("read 'one 0 0 1 2 3;tired 6 4;yards 3' = 3 status(0) = 7 line(0) = 10126 oneOf(6, 3) = 4 status(3) = 3 status(6) = 20")
+            .due("read 'one 0 0 1 2 3;tired 6 4;yards 3' = 3 status(0) = 7 line(0) = 10126 oneOf(6, 3) = 4 status(3) = 3 "
+            + "status(6) = 20")
             .fault("one 0 0 1 2 3;tired 6 4;yards 3;run 5 0;oops", 40));
     }
 
@@ -137,7 +144,8 @@ final class YardWalk {
         w.says("The FAULT: the place of the first byte of the first TOKEN that can't stand there", t -> t.upon(SIX)
             .fault("bell 7;yards bell", 13).fault("bell 7 yards 99", 7).fault("bells 7", 0).fault("7 bell", 0));
         w.says("(also a NUMBER that may not be, or has more than 2 digits;", t -> t.upon(SIX)
-            .fault("bell 7;spread 11", 14).fault("bell 007", 5).fault("run 5 0 001", 8).fault("bell 100", 5).due("read 'bell 07' = 1 status(6) = 7"));
+            .fault("bell 7;spread 11", 14).fault("bell 007", 5).fault("run 5 0 001", 8).fault("bell 100", 5)
+            .due("read 'bell 07' = 1 status(6) = 7"));
         w.says("of run: one that isn't in the CHAIN that is called, or the play is OVER: P;", t -> t.upon(SIX)
             .fault("run 0 0", 4).fault("run 6 0", 4).fault("run  2 9", 5).fault("bell 1;run 5 0;run 1 0", 19)
             .upon(YardEdges.crowd(2, 1)).fault("run 2 0", 4));
@@ -151,7 +159,8 @@ final class YardWalk {
             .upon(YardEdges.crowd(4, 3)).fault("one 0 0 5 5 0;one 0 0 5 5 0", 14));
         w.says("a byte that begins none);", t -> t.upon(SIX).fault("yards 3!", 7).fault("Bell 7", 0).fault("yards -3", 6)
             .fault("yards 3;\n", 8));
-        w.says("THE TAPE's size, if it ends too early.", t -> t.upon(SIX).fault("tired 1", 7).fault("tired 1  ", 9).fault("bell", 4)
+        w.says("THE TAPE's size, if it ends too early.", t -> t.upon(SIX).fault("tired 1", 7).fault("tired 1  ", 9)
+            .fault("bell", 4)
             .fault("run 3 0", 7).fault("yards 3; ", 9));
     }
 }
