@@ -19,9 +19,9 @@ final class AheadWalk {
         String strong = "ask(0, 0) " + "one(0, 0, 20, 0, 0) ".repeat(3) + "one(1, 0, 20, 0, 0) ".repeat(4);
         // FORCE 10 against 10, 10 and then 9: 4 and 2, 3 and 3, 2 and 4.
         String torn = "ask(0, 30) " + "one(0, 0, 6, 0, 0) ".repeat(3) + "one(1, 0, 6, 0, 0) ".repeat(3);
-        w.says("How often, behind RUNS of a PLAY by a rule (all of them, one after the other), the CHAIN that has more isn't "
-            + "the one "
-            + "that had more behind the last RUN of it behind which one had more (the first such doesn't count).", t -> t
+        w.says("How often, behind RUNS of a PLAY by a rule (all of them, one after the other), the CHAIN that has more "
+            + "isn't the one that had more behind the last RUN of it behind which one had more (the first such doesn't "
+            + "count).", t -> t
             .upon(strong + "ask(3, 1) ").same("leads(0) = 0 leads(1) = 0")
             .upon(strong + "ask(3, 2) ").same("leads(0) = 1 leads(1) = 1")
             .upon(strong + "ask(3, 7) ").same("leads(0) = 6 leads(1) = 6")

@@ -112,8 +112,7 @@ final class JointWalk {
         w.promise(31, "int pair()");
         // HOLD beside each other: 13 and 11 of the SISTERS, 8, 12, 4, 0 of the others.
         w.says("The two PEOPLE (10 times the one and the other, the one below) whose HOLD beside each other is greatest "
-            + "together, "
-            + "whatever their CHAINS, of several the first.", t -> t.upon(SIX).same("pair() = 12")
+            + "together, whatever their CHAINS, of several the first.", t -> t.upon(SIX).same("pair() = 12")
             .upon(SIX + "tell(2, 2, 9) ").same("pair() = 3").upon(SIX + "tell(3, 2, 20) tell(2, 2, 3) ").same("pair() = 12")
             .upon(YardEdges.crowd(2, 2)).same("pair() = 1").upon(YardEdges.crowd(2, 2) + "tell(0, 0, 0) ").same("pair() = 12"));
         w.says("STUCK: fewer than two.", t -> t.refused("pair() = -5").upon(YardEdges.crowd(1, 0)).refused("pair() = -5")

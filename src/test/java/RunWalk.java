@@ -57,9 +57,8 @@ final class RunWalk {
         w.says("HEAVY: a more;", t -> t.upon(each).same("oneOf(4, 7) = 17"));
         w.says("SLY: 2 more.", t -> t.upon(each).same("oneOf(5, 7) = 14"));
         // STRENGTH 10; the FORCE of 2 is its WEIGHT.
-        w.says("ODDS of a run at a JOINT: of the SPREAD numbers 0 to SPREAD less 1 those by which FORCE and the number are "
-            + "above "
-            + "STRENGTH: 1,000,000 times how many, by SPREAD (cut).", t -> t
+        w.says("ODDS of a run at a JOINT: of the SPREAD numbers 0 to SPREAD less 1 those by which FORCE and the number "
+            + "are above STRENGTH: 1,000,000 times how many, by SPREAD (cut).", t -> t
             .upon(TapeEdges.wall(10, 4)).same("odds(2, 0) = 750000")
             .upon(TapeEdges.wall(7, 4)).same("odds(2, 0) = 0")
             .upon(TapeEdges.wall(8, 4)).same("odds(2, 0) = 250000")
@@ -80,9 +79,8 @@ final class RunWalk {
             .due("run(3, 0, 0) = 1 oneOf(0, 3) = 20 oneOf(1, 3) = 20 status(7) = 40"));
         w.says("HELD: the runner comes between them.", t -> t.upon(SIX).due("run(4, 0, 1) = 0 line(0) = 10412 line(1) = 135")
             .upon(POWERS).due("run(6, 3, 0) = 0 line(0) = 1012364 line(1) = 15"));
-        w.says("TORN: the runner goes to the end of the own CHAIN, and one of the two (side 0 the left, at PLACE j; 1 the "
-            + "right) "
-            + "comes behind.", t -> t.upon(SIX).due("run(3, 0, 0) = 1 line(0) = 112 line(1) = 14530")
+        w.says("TORN: the runner goes to the end of the own CHAIN, and one of the two (side 0 the left, at PLACE j; 1 "
+            + "the right) comes behind.", t -> t.upon(SIX).due("run(3, 0, 0) = 1 line(0) = 112 line(1) = 14530")
             .due("run(3, 0, 1) = 1 line(0) = 102 line(1) = 14531")
             .upon(POWERS + "tell(5, 1, 20) ").due("run(5, 2, 0) = 1 line(0) = 10134 line(1) = 1652")
             .due("run(5, 2, 1) = 1 line(0) = 10124 line(1) = 1653"));

@@ -61,8 +61,8 @@ final class ThoughtWalk {
     private static void plays(Walk w) {
         // 2 is lighter than 3, but HEAVY: FORCE 14 and 8 against 10.
         String light = "ask(0, 0) one(0, 0, 6, 0, 0) one(0, 0, 6, 0, 0) one(1, 4, 0, 5, 9) one(1, 0, 0, 8, 0) ";
-        w.says("A PLAY by rules (0: CALL; 1: the one of the least WEIGHT is called, of several the first by numbers) to its "
-            + "end:", t -> t
+        w.says("A PLAY by rules (0: CALL; 1: the one of the least WEIGHT is called, of several the first by numbers) to "
+            + "its end:", t -> t
             .upon(light).same("play(0, 0) = 0 play(0, 1) = 1 play(0, 2) = 3 play(1, 0) = 1 play(1, 1) = 1 play(1, 2) = 1")
             .upon(light + "tell(3, 1, 5) move(3, 0) ").same("play(1, 0) = 1 play(1, 2) = 1")
             .upon(ChoiceEdges.STRONG).same("play(0, 1) = 20 play(0, 2) = 3 play(1, 1) = 20")
@@ -84,9 +84,8 @@ final class ThoughtWalk {
 
     private static void stands(Walk w) {
         // Of GRIPS 1, 5, 9: 9 belongs between; of 1, 5, 9, 3 none is above 6, by 1 9 5 3 first.
-        w.says("STAND of a CHAIN (7 at most): of all orders of its PEOPLE that by which its least STRENGTH is greatest (fewer "
-            + "than "
-            + "2: as they are), of several the first (by rows of numbers).", t -> t
+        w.says("STAND of a CHAIN (7 at most): of all orders of its PEOPLE that by which its least STRENGTH is greatest "
+            + "(fewer than 2: as they are), of several the first (by rows of numbers).", t -> t
             .upon(sides("1 5 9", "0")).same("stand(0, NONE) = 8 stand(0, 0) = 0 stand(0, 1) = 2 stand(0, 2) = 1")
             .same("stand(1, NONE) = 0 stand(1, 0) = 3")
             .upon(sides("1 5 9", "0") + "move(0, 2) move(1, 1) ").same("stand(0, 0) = 0 stand(0, 1) = 2 stand(0, 2) = 1")
@@ -130,8 +129,7 @@ final class ThoughtWalk {
             .upon("one(1, 3, 5, 5, 0) ".repeat(7)).same("together(1) = 5040")
             .upon("one(1, 3, 5, 5, 0) ".repeat(8)).refused("together(1) = -6"));
         w.says("SWAP of a CHAIN: of all pairs of PLACES side by side the one by whose change its least STRENGTH would be "
-            + "greatest, "
-            + "of several the first; by how much more that is (it may be below 0).", t -> t
+            + "greatest, of several the first; by how much more that is (it may be below 0).", t -> t
             .upon(sides("1 5 9 3", "0")).same("swap(0, 0) = 1 swap(0, 1) = 2")
             .upon(sides("1 9 5 3", "0")).same("swap(0, 0) = 0 swap(0, 1) = 0")
             .upon(sides("1 9 5", "0")).same("swap(0, 0) = 0 swap(0, 1) = -4")

@@ -95,8 +95,7 @@ final class TruthWalk {
             .upon("feed 'bell 7' row(0, 2, 1) call() image() wipe() feed 'yards 3' row(0, 3, 2) set(0, 1, 9) call() back() ")
             .due("holds(0) = 3 element(0, 1) = 9 status(15) = 2 yard() = 1 status(3) = 3 status(6) = 20"));
         w.promise(52, "int back()");
-        w.says("All is again as it was kept (SHELVES with somebody hold those of the same numbers, or NOTHING): "
-            + "1.", t -> t.bare()
+        w.says("All is again as it was kept (SHELVES with somebody hold those of the same numbers, or NOTHING): 1.", t -> t.bare()
             .upon(SIX + "image() one(0, 0, 5, 5, 0) show(0, 5) show(1, 6) row(2, 0, 1) ask(0, 3) ")
             .due("back() = 1 status(0) = 6 status(3) = 9 holds(0) = 15 holds(1) = -1 holds(2) = 0 status(10) = 2 "
             + "ask(0, 4) = 9 back() = 1 status(3) = 9")
@@ -110,8 +109,7 @@ final class TruthWalk {
             + "show(7, 4) ";
         w.promise(53, "int status(int what)");
         w.says("PEOPLE (0), RUNS (1), TURN (2), YARDS (3), SPREAD (4), WRISTS (5), BELL (6), all TIRED together (7), THE "
-            + "TAPE's size "
-            + "(8), SEED (9), SHELVES that hold something (10);", t -> t.upon(all)
+            + "TAPE's size (8), SEED (9), SHELVES that hold something (10);", t -> t.upon(all)
             .same("status(0) = 6 status(1) = 1 status(2) = 1 status(3) = 12 status(4) = 4 status(5) = 1 status(6) = 33 "
             + "status(7) = 9 "
                 + "status(8) = 4 status(9) = 1103527590 status(10) = 2"));
@@ -128,9 +126,8 @@ final class TruthWalk {
             + "the behaviour "
             + "of equals and hashCode.");
         w.passes("Use of one object from several threads at once is not promised to be safe.");
-        w.says("Nothing is promised beyond the answers and state changes described above, and nothing about an object after "
-            + "its 512th "
-            + "call.", TruthWalk::leavesOthersAlone);
+        w.says("Nothing is promised beyond the answers and state changes described above, and nothing about an object "
+            + "after its 512th call.", TruthWalk::leavesOthersAlone);
     }
 
     /** What is called on one object changes nothing of another, and the same calls give the same answers again. */

@@ -66,7 +66,7 @@ final class Walk {
         String head = "java public final class ThroughTheChain {";
         at = end;
         sentences++;
-        for (String line : lines.substring(head.length(), lines.length() - 1).split(";")) {
+        for (String line : lines.replace(head, "").replace("}", "").split(";")) {
             if (!line.isBlank()) {
                 face.add(line.strip().replace("public ", ""));
             }
@@ -75,9 +75,9 @@ final class Walk {
         for (String line : face) {
             due.add(line.replaceAll("(int|long) \\w+([,)])", "$1$2"));
         }
-        boolean isFace = lines.startsWith(head) && due.equals(faceOfClass());
-        if (!Edge.held(t -> t.that(isFace, "the class shows " + faceOfClass() + ", due are "
-            + "" + due)).tell(shown(lines), lines)) {
+        Set<String> shows = faceOfClass();
+        boolean isFace = lines.startsWith(head) && due.equals(shows);
+        if (!Edge.held(t -> t.that(isFace, "the class shows " + shows + ", due are " + due)).tell(shown(lines), lines)) {
             failed++;
         }
     }

@@ -21,17 +21,16 @@ final class YardWalk {
 
     private static void whatItIs(Walk w) {
         w.passes("# ThroughTheChain ## What it is");
-        w.says("Through the chain: two rows hand in hand, people by kinds, each with a grip, a weight, tired hands; how strong "
-            + "each joint is, who runs with which force, by what odds a joint tears, the weakest joint, how to stand, whom to "
-            + "call, at which joint to run, whom to take home, what comes of a run,", t -> t.upon(SIX)
+        w.says("Through the chain: two rows hand in hand, people by kinds, each with a grip, a weight, tired hands; how "
+            + "strong each joint is, who runs with which force, by what odds a joint tears, the weakest joint, how to "
+            + "stand, whom to call, at which joint to run, whom to take home, what comes of a run,", t -> t.upon(SIX)
             .same("line(0) = 1012 line(1) = 1345 oneOf(4, 0) = 5 oneOf(0, 1) = 8 oneOf(0, 2) = 9 oneOf(0, 3) = 0")
             .same("strength(0, 0) = 14 strength(0, 1) = 22 oneOf(3, 7) = 20 odds(3, 0) = 1000000 odds(4, 0) = 0 weakest(0) = 0")
             .same("stand(0, NONE) = 14 stand(0, 1) = 1 call() = 4 at(3) = 0 take(0) = 0")
             .upon(SIX + "fill 0 2: 3001 ").same("behind(0, 1, 0) = 2 behind(0, 1, 1) = 4"));
-        w.says("plays by rules to the end, whoever is light called again and again, the next runs looked ahead as a game, how "
-            + "often sisters stand together, told books judged, who could have torn it, swaps, rests, yards read from "
-                + "texts, runs "
-            + "in truth by draws.", t -> t.upon(ChoiceEdges.STRONG).same("play(0, 1) = 20 play(1, 1) = 20")
+        w.says("plays by rules to the end, whoever is light called again and again, the next runs looked ahead as a "
+            + "game, how often sisters stand together, told books judged, who could have torn it, swaps, rests, yards "
+            + "read from texts, runs in truth by draws.", t -> t.upon(ChoiceEdges.STRONG).same("play(0, 1) = 20 play(1, 1) = 20")
             .upon(SIX).same("game(0) = 0 together(0) = 4 could(0, 0) = 8 swap(0, 1) = -2")
             .upon(SIX + "fill 0 2: 3000 ").same("judge(0, 1) = 0")
             .upon(SIX).due("tell(0, 2, 3) = 0 rest(2) = 5 oneOf(0, 3) = 1 read 'yards 12;run 5 0' = 2 status(3) = 12")
@@ -78,8 +77,8 @@ final class YardWalk {
     }
 
     private static void agreed(Walk w) {
-        w.says("YARDS (0 to 30; 9 at first), SPREAD (1 to 10; 1 at first), WRISTS (0 or 1; 0 at first), BELL (1 to 99; 20 at "
-            + "first).", t -> t.bare().same("status(3) = 9 status(4) = 1 status(5) = 0 status(6) = 20")
+        w.says("YARDS (0 to 30; 9 at first), SPREAD (1 to 10; 1 at first), WRISTS (0 or 1; 0 at first), BELL (1 to 99; "
+            + "20 at first).", t -> t.bare().same("status(3) = 9 status(4) = 1 status(5) = 0 status(6) = 20")
             .due("ask(0, 0) = 9 ask(0, 30) = 0 ask(1, 10) = 1 ask(1, 1) = 10 ask(2, 1) = 0 ask(2, 0) = 1 ask(3, 1) = 20 "
                 + "ask(3, 99) = 1")
             .refused("ask(0, -1) = -2 ask(0, 31) = -2 ask(1, 0) = -2 ask(1, 11) = -2")
@@ -96,8 +95,8 @@ final class YardWalk {
             .due("feed 'yards 3' = 7 yard() = 1 status(3) = 3")
             .due("read '" + " ".repeat(243) + "yards 3' = 1 status(3) = 3")
             .upon("feed '" + " ".repeat(250) + "' ").refused("feed(32) = -6"));
-        w.says("TOKENS, each as long as can be: WORDS (a .. z), NUMBERS (digits), the SIGN ; - blanks (32) may stand anywhere "
-            + "between.", t -> t.upon(SIX)
+        w.says("TOKENS, each as long as can be: WORDS (a .. z), NUMBERS (digits), the SIGN ; - blanks (32) may stand "
+            + "anywhere between.", t -> t.upon(SIX)
             .due("read 'yards12;bell7' = 2 status(3) = 12 status(6) = 7")
             .due("read '  yards  12 ;  bell 7 ' = 2 status(3) = 12 status(6) = 7")
             .fault("yards 1 2", 8).fault("yar ds 12", 0).fault("yardsbell 7", 0).fault("yards\t12", 5));
@@ -123,9 +122,8 @@ final class YardWalk {
     }
 
     private static void runsTold(Walk w) {
-        w.says("run P J S (a RUN in truth of P at JOINT J that is TORN, and takes, by S 0 the left, 1 the right one; if it "
-            + "can be "
-            + "TORN by its ODDS)", t -> t.upon(SIX)
+        w.says("run P J S (a RUN in truth of P at JOINT J that is TORN, and takes, by S 0 the left, 1 the right one; if "
+            + "it can be TORN by its ODDS)", t -> t.upon(SIX)
             .due("read 'run 3 0 0' = 1 line(0) = 112 line(1) = 14530 status(1) = 1 status(2) = 1 status(7) = 2")
             .due("read 'run 3 0 1' = 1 line(0) = 102 line(1) = 14531 status(1) = 1 status(2) = 1 status(7) = 2")
             // FORCE 13 against 14: with SPREAD 3 the number 2 alone is above it.
